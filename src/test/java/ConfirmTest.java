@@ -1,0 +1,119 @@
+/** Promise 8: confirm. */
+final class ConfirmTest extends Scenes {
+    public static void main(String[] args) {
+        twoDecideToCommit();
+        twoDecideToAbort();
+        eachCountsOnce();
+        aRecordOfAChangeConfirms();
+        aFinalRecordOfAnotherResult();
+        confirmationsStayBehindAChange();
+        refusals();
+        close();
+    }
+
+    private static TapirGroup slow(int... answers) {
+        TapirGroup g = answered(answers);
+        g.decide(0);
+        due("STATE of the scene", SLOW, g.client(0, 0));
+        due("confirmations of the scene", 0, g.client(0, 6));
+        return g;
+    }
+
+    private static void twoDecideToCommit() {
+        TapirGroup g = slow(OK, OK, ABSTAIN);
+        due("the slow result", OK, g.client(0, 7));
+        due("confirm at 2", 1, g.confirm(0, 2));
+        due("record(2, 1), of another result before", OK | FINAL, g.record(2, 1));
+        due("record(0, 1)", OK, g.record(0, 1));
+        due("STATE", SLOW, g.client(0, 0));
+        due("confirmations", 1, g.client(0, 6));
+        due("confirm at 0", 2, g.confirm(0, 0));
+        due("record(0, 1)", OK | FINAL, g.record(0, 1));
+        due("record(1, 1)", OK, g.record(1, 1));
+        due("STATE", TO_COMMIT, g.client(0, 0));
+        due("confirmations", 2, g.client(0, 6));
+        due("the slow result of a decided one", -1, g.client(0, 7));
+        due("answers stay", 3, g.client(0, 5));
+    }
+
+    private static void twoDecideToAbort() {
+        TapirGroup g = slow(OK, ABSTAIN, NOT_ASKED);
+        due("the slow result", ABORT, g.client(0, 7));
+        due("confirm at 2", 1, g.confirm(0, 2));
+        due("record(2, 1), made", ABORT | FINAL, g.record(2, 1));
+        due("confirm at 1", 2, g.confirm(0, 1));
+        due("record(1, 1)", ABORT | FINAL, g.record(1, 1));
+        due("STATE", TO_ABORT, g.client(0, 0));
+    }
+
+    private static void eachCountsOnce() {
+        TapirGroup g = slow(OK, OK, NOT_ASKED);
+        due("confirm at 1", 1, g.confirm(0, 1));
+        due("confirm at 1 again", 1, g.confirm(0, 1));
+        due("STATE", SLOW, g.client(0, 0));
+        due("confirm at 2", 2, g.confirm(0, 2));
+    }
+
+    private static void aRecordOfAChangeConfirms() {
+        TapirGroup g = slow(OK, ABSTAIN, NOT_ASKED);
+        g.change();
+        due("record(0, 1)", ABORT | FINAL, g.record(0, 1));
+        due("confirmations", 0, g.client(0, 6));
+        due("confirm at 0", 1, g.confirm(0, 0));
+        due("confirm at 2", 2, g.confirm(0, 2));
+        due("STATE", TO_ABORT, g.client(0, 0));
+    }
+
+    private static void aFinalRecordOfAnotherResult() {
+        TapirGroup g = slow(OK, OK, NOT_ASKED);
+        g.change();
+        for (int r = 0; r < 3; r++) {
+            due("confirm at " + r, 0, g.confirm(0, r));
+            due("record(" + r + ", 1)", ABORT | FINAL, g.record(r, 1));
+        }
+        due("STATE", SLOW, g.client(0, 0));
+        due("the slow result", OK, g.client(0, 7));
+    }
+
+    private static void confirmationsStayBehindAChange() {
+        TapirGroup g = slow(OK, OK, NOT_ASKED);
+        due("confirm at 0", 1, g.confirm(0, 0));
+        g.power(0, false);
+        g.change();
+        due("record(1, 1)", ABORT | FINAL, g.record(1, 1));
+        due("confirmations", 1, g.client(0, 6));
+        due("confirm at 1", 1, g.confirm(0, 1));
+        g.power(0, true);
+        g.change();
+        due("record(0, 1)", ABORT | FINAL, g.record(0, 1));
+        due("confirm at 0 again", 1, g.confirm(0, 0));
+        due("STATE", SLOW, g.client(0, 0));
+    }
+
+    private static void refusals() {
+        TapirGroup g = answered(OK, OK, NOT_ASKED);
+        refused("confirm when proposed", STATE, () -> g.confirm(0, 0));
+        g.power(2, false);
+        refused("confirm when proposed, replica down", STATE, () -> g.confirm(0, 2));
+        refused("no such replica, when proposed", ARGUMENT, () -> g.confirm(0, 3));
+        g.decide(0);
+        refused("confirm, replica down", UNSUPPORTED, () -> g.confirm(0, 2));
+        due("record(2, 1)", -1, g.record(2, 1));
+        g.change();
+        g.power(2, true);
+        refused("confirm, replica in an old view", UNSUPPORTED, () -> g.confirm(0, 2));
+        for (int no : NO_INDEX) {
+            refused("confirm of client " + no, ARGUMENT, () -> g.confirm(no, 0));
+            refused("confirm at replica " + no, ARGUMENT, () -> g.confirm(0, no));
+        }
+        refused("confirm of client 4", ARGUMENT, () -> g.confirm(4, 0));
+        refused("confirm at replica 3", ARGUMENT, () -> g.confirm(0, 3));
+        g.confirm(0, 0);
+        g.confirm(0, 1);
+        refused("confirm when decided", STATE, () -> g.confirm(0, 0));
+        g.end(0);
+        refused("confirm without a transaction", STATE, () -> g.confirm(0, 0));
+        g.begin(0);
+        refused("confirm when running", STATE, () -> g.confirm(0, 0));
+    }
+}

@@ -1,0 +1,263 @@
+/** Promise 6: prepare, with the check of a transaction at a replica. */
+final class PrepareTest extends Scenes {
+    public static void main(String[] args) {
+        okByItself();
+        abortByAGreaterVersion();
+        abortByAVersionFromTheFuture();
+        abstainByAPreparedWrite();
+        retryByAPreparedRead();
+        retryByAnAppliedRead();
+        retryByAGreaterVersion();
+        theOrderOfTheCheck();
+        onlyPreparedOnesCount();
+        preparedOnesOfAChangeCount();
+        endedOnesCount();
+        theRecordIsKept();
+        theRecordOfAChange();
+        theLatestAnswer();
+        refusals();
+        close();
+    }
+
+    private static void okByItself() {
+        TapirGroup g = new TapirGroup();
+        g.begin(0);
+        g.read(0, 0, 0);
+        g.write(0, 0, 1);
+        g.propose(0, 1);
+        due("prepare", OK, g.prepare(0, 1));
+        due("record(1, 1)", OK, g.record(1, 1));
+        due("record(0, 1)", -1, g.record(0, 1));
+        due("answers", 1, g.client(0, 5));
+        due("STATE", PROPOSED, g.client(0, 0));
+        due("prepare again", OK, g.prepare(0, 1));
+        due("answers, one of each replica", 1, g.client(0, 5));
+    }
+
+    private static void abortByAGreaterVersion() {
+        TapirGroup g = new TapirGroup();
+        g.begin(0);
+        g.read(0, 3, 0);
+        commitWrite(g, 1, 3, 5, 10, 0);
+        g.propose(0, 20);
+        due("the key has a greater version", ABORT, g.prepare(0, 0));
+        due("record", ABORT, g.record(0, 1));
+        TapirGroup same = new TapirGroup();
+        commitWrite(same, 1, 3, 5, 10, 0, 1, 2);
+        proposeRead(same, 0, 3, 0, 20);
+        due("the key has the version seen", OK, same.prepare(0, 1));
+        TapirGroup less = new TapirGroup();
+        commitWrite(less, 1, 3, 5, 10, 0);
+        less.begin(2);
+        less.read(2, 4, 0);
+        less.read(2, 3, 0);
+        less.propose(2, 20);
+        due("the key has a smaller version, but a write is prepared", ABSTAIN, less.prepare(2, 1));
+    }
+
+    private static void abortByAVersionFromTheFuture() {
+        TapirGroup g = new TapirGroup();
+        commitWrite(g, 1, 3, 5, 10, 0, 1, 2);
+        proposeRead(g, 0, 3, 0, 10);
+        due("seen 41, timestamp 40", ABORT, g.prepare(0, 0));
+        proposeRead(g, 2, 3, 0, 10);
+        due("seen 41, timestamp 42", OK, g.prepare(2, 0));
+        TapirGroup apart = new TapirGroup();
+        commitWrite(apart, 1, 3, 5, 10, 0);
+        proposeRead(apart, 0, 3, 0, 10);
+        due("also where that version is not known", ABORT, apart.prepare(0, 1));
+    }
+
+    private static void abstainByAPreparedWrite() {
+        for (int time : new int[] {5, 15}) {
+            TapirGroup g = new TapirGroup();
+            proposeWrite(g, 1, 2, 6, time);
+            g.prepare(1, 0);
+            g.begin(0);
+            g.read(0, 2, 0);
+            g.read(0, 3, 0);
+            g.propose(0, 10);
+            due("prepared there with time " + time, ABSTAIN, g.prepare(0, 0));
+            due("record", ABSTAIN, g.record(0, 2));
+            due("not prepared there", OK, g.prepare(0, 1));
+        }
+        TapirGroup other = new TapirGroup();
+        proposeWrite(other, 1, 2, 6, 5);
+        other.prepare(1, 0);
+        proposeRead(other, 0, 3, 0, 10);
+        due("another key", OK, other.prepare(0, 0));
+        proposeWrite(other, 2, 2, 9, 3);
+        due("a write of a prepared write's key", OK, other.prepare(2, 0));
+    }
+
+    private static void retryByAPreparedRead() {
+        TapirGroup g = new TapirGroup();
+        proposeRead(g, 1, 2, 0, 10);
+        g.prepare(1, 0);
+        proposeWrite(g, 0, 2, 9, 10);
+        due("read by 41, timestamp 40", RETRY, g.prepare(0, 0));
+        due("record", RETRY, g.record(0, 2));
+        due("not prepared there", OK, g.prepare(0, 2));
+        proposeWrite(g, 2, 2, 9, 10);
+        due("read by 41, timestamp 42", OK, g.prepare(2, 0));
+        proposeWrite(g, 3, 1, 9, 1);
+        due("another key", OK, g.prepare(3, 0));
+    }
+
+    private static void retryByAnAppliedRead() {
+        TapirGroup g = new TapirGroup();
+        commitRead(g, 1, 2, 10, 0, 1, 2);
+        proposeWrite(g, 0, 2, 9, 10);
+        due("read by 41, timestamp 40", RETRY, g.prepare(0, 0));
+        proposeWrite(g, 2, 2, 9, 10);
+        due("read by 41, timestamp 42", OK, g.prepare(2, 0));
+        proposeWrite(g, 3, 1, 9, 1);
+        due("another key", OK, g.prepare(3, 0));
+    }
+
+    private static void retryByAGreaterVersion() {
+        TapirGroup g = new TapirGroup();
+        commitWrite(g, 1, 2, 5, 10, 0, 1, 2);
+        proposeWrite(g, 0, 2, 9, 10);
+        due("version 41, timestamp 40", RETRY, g.prepare(0, 0));
+        proposeWrite(g, 2, 2, 9, 10);
+        due("version 41, timestamp 42", OK, g.prepare(2, 0));
+        proposeWrite(g, 3, 1, 9, 1);
+        due("another key", OK, g.prepare(3, 0));
+    }
+
+    private static void theOrderOfTheCheck() {
+        TapirGroup g = new TapirGroup();
+        g.begin(0);
+        g.read(0, 0, 0);
+        g.write(0, 1, 1);
+        g.begin(3);
+        g.read(3, 5, 0);
+        g.write(3, 1, 1);
+        commitWrite(g, 1, 1, 5, 10, 0, 1, 2);
+        proposeWrite(g, 2, 0, 5, 20);
+        g.prepare(2, 0);
+        g.propose(0, 5);
+        g.propose(3, 5);
+        due("RETRY alone", RETRY, g.prepare(3, 0));
+        due("ABSTAIN before RETRY", ABSTAIN, g.prepare(0, 0));
+        g.prepare(2, 1);
+        g.prepare(2, 2);
+        g.decide(2);
+        g.finish(2, 0);
+        g.end(2);
+        proposeWrite(g, 2, 0, 6, 30);
+        g.prepare(2, 0);
+        g.propose(0, 6);
+        due("ABORT before ABSTAIN and RETRY", ABORT, g.prepare(0, 0));
+    }
+
+    private static void onlyPreparedOnesCount() {
+        TapirGroup applied = new TapirGroup();
+        commitWrite(applied, 1, 2, 6, 5, 0);
+        proposeRead(applied, 0, 2, 0, 10);
+        due("a write that is applied", OK, applied.prepare(0, 0));
+
+        TapirGroup dropped = answered(OK, ABSTAIN, OK);
+        dropped.change();
+        dropped.prepare(0, 0);
+        dropped.prepare(0, 1);
+        due("decide", ABORT, dropped.decide(0));
+        dropped.confirm(0, 0);
+        dropped.confirm(0, 1);
+        dropped.finish(0, 0);
+        proposeRead(dropped, 2, 1, 0, 90);
+        due("a write that is dropped", OK, dropped.prepare(2, 0));
+
+        TapirGroup both = fastAbortWithAnOk();
+        proposeRead(both, 2, 1, 0, 90);
+        due("a write with OK, before it is dropped", ABSTAIN, both.prepare(2, 0));
+        due("finish", true, both.finish(0, 0));
+        due("record of a dropped one with OK", OK | DROPPED, both.record(0, 1));
+        both.propose(2, 91);
+        due("a write with OK, when it is dropped", OK, both.prepare(2, 0));
+
+        TapirGroup retries = answered(RETRY, ABSTAIN, NOT_ASKED);
+        proposeRead(retries, 2, 1, 0, 90);
+        due("a write with RETRY", OK, retries.prepare(2, 0));
+        due("a write with ABSTAIN", OK, retries.prepare(2, 1));
+    }
+
+    /** Transaction 1 is decided to abort, and replica 0 holds an OK of it. */
+    private static TapirGroup fastAbortWithAnOk() {
+        TapirGroup g = answered(OK, ABSTAIN, ABSTAIN);
+        g.decide(0);
+        g.confirm(0, 1);
+        g.confirm(0, 2);
+        return g;
+    }
+
+    private static void preparedOnesOfAChangeCount() {
+        TapirGroup g = answered(OK, OK, OK);
+        g.change();
+        due("record", OK | FINAL, g.record(0, 1));
+        proposeRead(g, 2, 1, 0, 90);
+        due("a write that is final with OK", ABSTAIN, g.prepare(2, 0));
+    }
+
+    private static void endedOnesCount() {
+        TapirGroup g = new TapirGroup();
+        commitWrite(g, 1, 2, 6, 5, 0);
+        proposeWrite(g, 1, 4, 6, 6);
+        proposeRead(g, 0, 2, 0, 10);
+        due("ended, and not finished there", ABSTAIN, g.prepare(0, 1));
+    }
+
+    private static void theRecordIsKept() {
+        TapirGroup g = new TapirGroup();
+        proposeRead(g, 0, 2, 0, 10);
+        due("prepare", OK, g.prepare(0, 0));
+        commitWrite(g, 1, 2, 6, 20, 0);
+        due("no second check", OK, g.prepare(0, 0));
+        g.propose(0, 30);
+        due("a check behind propose", ABORT, g.prepare(0, 0));
+    }
+
+    private static void theRecordOfAChange() {
+        TapirGroup g = answered(OK, NOT_ASKED, NOT_ASKED);
+        g.change();
+        due("prepare where a change made the record", ABORT, g.prepare(0, 1));
+        due("record is final still", ABORT | FINAL, g.record(1, 1));
+    }
+
+    private static void theLatestAnswer() {
+        TapirGroup g = answered(OK, OK, NOT_ASKED);
+        g.change();
+        due("prepare where a change made another result", ABORT, g.prepare(0, 0));
+        due("answers", 2, g.client(0, 5));
+        due("decide by the latest", ABORT, g.decide(0));
+    }
+
+    private static void refusals() {
+        TapirGroup g = new TapirGroup();
+        refused("prepare without a transaction", STATE, () -> g.prepare(0, 0));
+        g.begin(0);
+        refused("prepare when running", STATE, () -> g.prepare(0, 0));
+        g.power(1, false);
+        refused("prepare when running, replica down", STATE, () -> g.prepare(0, 1));
+        refused("no such replica, when running", ARGUMENT, () -> g.prepare(0, 3));
+        g.propose(0, 1);
+        refused("prepare, replica down", UNSUPPORTED, () -> g.prepare(0, 1));
+        g.change();
+        g.power(1, true);
+        refused("prepare, replica in an old view", UNSUPPORTED, () -> g.prepare(0, 1));
+        for (int no : NO_INDEX) {
+            refused("prepare of client " + no, ARGUMENT, () -> g.prepare(no, 0));
+            refused("prepare at replica " + no, ARGUMENT, () -> g.prepare(0, no));
+        }
+        refused("prepare of client 4", ARGUMENT, () -> g.prepare(4, 0));
+        refused("prepare at replica 3", ARGUMENT, () -> g.prepare(0, 3));
+
+        TapirGroup slow = answered(OK, OK, NOT_ASKED);
+        slow.decide(0);
+        refused("prepare when slow", STATE, () -> slow.prepare(0, 2));
+        TapirGroup done = answered(OK, OK, OK);
+        done.decide(0);
+        refused("prepare when decided", STATE, () -> done.prepare(0, 2));
+    }
+}
