@@ -16,7 +16,12 @@ final class BeginTest extends Scenes {
             due("client(.., 0)", RUNNING, g.client(order[i], 0));
             due("client(.., 1)", i + 1, g.client(order[i], 1));
             due("state(1)", i + 1, g.state(1));
+            for (int r = 0; r < 3; r++) {
+                due("record(" + r + ", " + (i + 1) + ") of a running one", -1, g.record(r, i + 1));
+            }
         }
+        g.change();
+        due("record(1, 2) of a running one behind a change", -1, g.record(1, 2));
         for (int c : NO_INDEX) {
             refused("begin(" + c + ")", ARGUMENT, () -> g.begin(c));
         }

@@ -40,7 +40,7 @@ final class ChangeTest extends Scenes {
         String what = " of " + records[0] + " " + records[1] + " " + records[2];
         g.change();
         for (int r = 0; r < 3; r++) {
-            due("record(" + r + ", 1) by a change" + what, want | FINAL, g.record(r, 1));
+            due("record at " + r + " by a change" + what, want | FINAL, g.record(r, SUBJECT));
         }
     }
 
@@ -71,23 +71,23 @@ final class ChangeTest extends Scenes {
         TapirGroup ok = answered(OK, OK, ABORT);
         ok.power(2, false);
         ok.change();
-        due("record(0, 1)", OK | FINAL, ok.record(0, 1));
-        due("record(1, 1)", OK | FINAL, ok.record(1, 1));
-        due("record(2, 1)", ABORT, ok.record(2, 1));
+        due("record at 0", OK | FINAL, ok.record(0, SUBJECT));
+        due("record at 1", OK | FINAL, ok.record(1, SUBJECT));
+        due("record at 2", ABORT, ok.record(2, SUBJECT));
         TapirGroup one = answered(OK, RETRY, RETRY);
         one.power(1, false);
         one.change();
-        due("record(0, 1) of OK and RETRY", ABORT | FINAL, one.record(0, 1));
-        due("record(2, 1) of OK and RETRY", ABORT | FINAL, one.record(2, 1));
+        due("record at 0 of OK and RETRY", ABORT | FINAL, one.record(0, SUBJECT));
+        due("record at 2 of OK and RETRY", ABORT | FINAL, one.record(2, SUBJECT));
         TapirGroup same = answered(OK, RETRY, RETRY);
         same.power(0, false);
         same.change();
-        due("record(2, 1) of RETRY twice", RETRY | FINAL, same.record(2, 1));
+        due("record at 2 of RETRY twice", RETRY | FINAL, same.record(2, SUBJECT));
         TapirGroup away = answered(OK, NOT_ASKED, NOT_ASKED);
         away.power(0, false);
         away.change();
-        due("no record where none of them has one", -1, away.record(1, 1));
-        due("the record of the one that is down", OK, away.record(0, 1));
+        due("no record where none of them has one", -1, away.record(1, SUBJECT));
+        due("the record of the one that is down", OK, away.record(0, SUBJECT));
     }
 
     private static void aFinalRecordWins() {
@@ -96,18 +96,18 @@ final class ChangeTest extends Scenes {
         g.confirm(0, 2);
         g.change();
         for (int r = 0; r < 3; r++) {
-            due("record(" + r + ", 1)", OK | FINAL, g.record(r, 1));
+            due("record at " + r, OK | FINAL, g.record(r, SUBJECT));
         }
         TapirGroup retries = answered(RETRY, RETRY, ABORT);
         retries.decide(0);
         retries.confirm(0, 2);
         retries.change();
-        due("a final one before two alike", ABORT | FINAL, retries.record(0, 1));
+        due("a final one before two alike", ABORT | FINAL, retries.record(0, SUBJECT));
         TapirGroup made = answered(OK, OK, NOT_ASKED);
         made.decide(0);
         made.confirm(0, 0);
         made.change();
-        due("a record that is made", OK | FINAL, made.record(2, 1));
+        due("a record that is made", OK | FINAL, made.record(2, SUBJECT));
     }
 
     private static void aFinalRecordOfAnOldViewDoesNot() {
@@ -116,11 +116,11 @@ final class ChangeTest extends Scenes {
         g.confirm(0, 0);
         g.power(0, false);
         g.change();
-        due("record(2, 1) of OK and none", ABORT | FINAL, g.record(2, 1));
+        due("record at 2 of OK and none", ABORT | FINAL, g.record(2, SUBJECT));
         g.power(0, true);
         g.change();
-        due("record(0, 1) by a later view", ABORT | FINAL, g.record(0, 1));
-        due("record(1, 1)", ABORT | FINAL, g.record(1, 1));
+        due("record at 0 by a later view", ABORT | FINAL, g.record(0, SUBJECT));
+        due("record at 1", ABORT | FINAL, g.record(1, SUBJECT));
     }
 
     private static void appliedAtSome() {
@@ -130,9 +130,9 @@ final class ChangeTest extends Scenes {
         g.confirm(0, 1);
         g.finish(0, 0);
         g.change();
-        due("record(0, 1)", OK | FINAL | APPLIED, g.record(0, 1));
-        due("record(1, 1)", OK | FINAL | APPLIED, g.record(1, 1));
-        due("record(2, 1) keeps its result", RETRY | APPLIED, g.record(2, 1));
+        due("record at 0", OK | FINAL | APPLIED, g.record(0, SUBJECT));
+        due("record at 1", OK | FINAL | APPLIED, g.record(1, SUBJECT));
+        due("record at 2 keeps its result", RETRY | APPLIED, g.record(2, SUBJECT));
         due("version", 40, g.at(2, 1, 0));
         due("value", 5, g.at(2, 1, 1));
         due("read by", 40, g.at(2, 0, 2));
@@ -142,7 +142,7 @@ final class ChangeTest extends Scenes {
         made.confirm(0, 1);
         made.finish(0, 1);
         made.change();
-        due("a record that is made", OK | APPLIED, made.record(2, 1));
+        due("a record that is made", OK | APPLIED, made.record(2, SUBJECT));
     }
 
     private static void droppedAtSome() {
@@ -152,9 +152,9 @@ final class ChangeTest extends Scenes {
         g.confirm(0, 2);
         g.finish(0, 1);
         g.change();
-        due("record(0, 1) keeps its result", OK | DROPPED, g.record(0, 1));
-        due("record(1, 1)", ABORT | FINAL | DROPPED, g.record(1, 1));
-        due("record(2, 1)", ABORT | FINAL | DROPPED, g.record(2, 1));
+        due("record at 0 keeps its result", OK | DROPPED, g.record(0, SUBJECT));
+        due("record at 1", ABORT | FINAL | DROPPED, g.record(1, SUBJECT));
+        due("record at 2", ABORT | FINAL | DROPPED, g.record(2, SUBJECT));
         due("version", 0, g.at(0, 1, 0));
         due("read by", 0, g.at(0, 0, 2));
         TapirGroup made = answered(OK, ABSTAIN, NOT_ASKED);
@@ -163,7 +163,7 @@ final class ChangeTest extends Scenes {
         made.confirm(0, 1);
         made.finish(0, 0);
         made.change();
-        due("a record that is made", ABORT | DROPPED, made.record(2, 1));
+        due("a record that is made", ABORT | DROPPED, made.record(2, SUBJECT));
     }
 
     private static void everyTransactionIsMerged() {

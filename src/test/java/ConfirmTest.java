@@ -23,13 +23,13 @@ final class ConfirmTest extends Scenes {
         TapirGroup g = slow(OK, OK, ABSTAIN);
         due("the slow result", OK, g.client(0, 7));
         due("confirm at 2", 1, g.confirm(0, 2));
-        due("record(2, 1), of another result before", OK | FINAL, g.record(2, 1));
-        due("record(0, 1)", OK, g.record(0, 1));
+        due("record at 2, of another result before", OK | FINAL, g.record(2, SUBJECT));
+        due("record at 0", OK, g.record(0, SUBJECT));
         due("STATE", SLOW, g.client(0, 0));
         due("confirmations", 1, g.client(0, 6));
         due("confirm at 0", 2, g.confirm(0, 0));
-        due("record(0, 1)", OK | FINAL, g.record(0, 1));
-        due("record(1, 1)", OK, g.record(1, 1));
+        due("record at 0", OK | FINAL, g.record(0, SUBJECT));
+        due("record at 1", OK, g.record(1, SUBJECT));
         due("STATE", TO_COMMIT, g.client(0, 0));
         due("confirmations", 2, g.client(0, 6));
         due("the slow result of a decided one", -1, g.client(0, 7));
@@ -40,9 +40,9 @@ final class ConfirmTest extends Scenes {
         TapirGroup g = slow(OK, ABSTAIN, NOT_ASKED);
         due("the slow result", ABORT, g.client(0, 7));
         due("confirm at 2", 1, g.confirm(0, 2));
-        due("record(2, 1), made", ABORT | FINAL, g.record(2, 1));
+        due("record at 2, made", ABORT | FINAL, g.record(2, SUBJECT));
         due("confirm at 1", 2, g.confirm(0, 1));
-        due("record(1, 1)", ABORT | FINAL, g.record(1, 1));
+        due("record at 1", ABORT | FINAL, g.record(1, SUBJECT));
         due("STATE", TO_ABORT, g.client(0, 0));
     }
 
@@ -57,7 +57,7 @@ final class ConfirmTest extends Scenes {
     private static void aRecordOfAChangeConfirms() {
         TapirGroup g = slow(OK, ABSTAIN, NOT_ASKED);
         g.change();
-        due("record(0, 1)", ABORT | FINAL, g.record(0, 1));
+        due("record at 0", ABORT | FINAL, g.record(0, SUBJECT));
         due("confirmations", 0, g.client(0, 6));
         due("confirm at 0", 1, g.confirm(0, 0));
         due("confirm at 2", 2, g.confirm(0, 2));
@@ -69,7 +69,7 @@ final class ConfirmTest extends Scenes {
         g.change();
         for (int r = 0; r < 3; r++) {
             due("confirm at " + r, 0, g.confirm(0, r));
-            due("record(" + r + ", 1)", ABORT | FINAL, g.record(r, 1));
+            due("record at " + r, ABORT | FINAL, g.record(r, SUBJECT));
         }
         due("STATE", SLOW, g.client(0, 0));
         due("the slow result", OK, g.client(0, 7));
@@ -80,12 +80,12 @@ final class ConfirmTest extends Scenes {
         due("confirm at 0", 1, g.confirm(0, 0));
         g.power(0, false);
         g.change();
-        due("record(1, 1)", ABORT | FINAL, g.record(1, 1));
+        due("record at 1", ABORT | FINAL, g.record(1, SUBJECT));
         due("confirmations", 1, g.client(0, 6));
         due("confirm at 1", 1, g.confirm(0, 1));
         g.power(0, true);
         g.change();
-        due("record(0, 1)", ABORT | FINAL, g.record(0, 1));
+        due("record at 0", ABORT | FINAL, g.record(0, SUBJECT));
         due("confirm at 0 again", 1, g.confirm(0, 0));
         due("STATE", SLOW, g.client(0, 0));
     }
@@ -98,7 +98,7 @@ final class ConfirmTest extends Scenes {
         refused("no such replica, when proposed", ARGUMENT, () -> g.confirm(0, 3));
         g.decide(0);
         refused("confirm, replica down", UNSUPPORTED, () -> g.confirm(0, 2));
-        due("record(2, 1)", -1, g.record(2, 1));
+        due("record at 2", -1, g.record(2, SUBJECT));
         g.change();
         g.power(2, true);
         refused("confirm, replica in an old view", UNSUPPORTED, () -> g.confirm(0, 2));

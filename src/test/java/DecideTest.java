@@ -62,7 +62,7 @@ final class DecideTest extends Scenes {
             due("the slow result" + what, state == SLOW ? result : -1, g.client(0, 7));
             due("answers" + what, count, g.client(0, 5));
             for (int r = 0; r < 3; r++) {
-                due("record" + what, given[r], g.record(r, 1));
+                due("record" + what, given[r], g.record(r, SUBJECT));
             }
         }
     }

@@ -15,11 +15,11 @@ final class EndTest extends Scenes {
         for (int what = 0; what < 8; what++) {
             due("client(0, " + what + ")", what == 7 ? -1 : 0, g.client(0, what));
         }
-        due("a record that is not finished", OK, g.record(0, 1));
-        due("a record that is finished", OK | APPLIED, g.record(1, 1));
+        due("a record that is not finished", OK, g.record(0, SUBJECT));
+        due("a record that is finished", OK | APPLIED, g.record(1, SUBJECT));
         due("transactions ever", 3, g.state(1));
         g.change();
-        due("a change still applies it", OK | APPLIED, g.record(0, 1));
+        due("a change still applies it", OK | APPLIED, g.record(0, SUBJECT));
         due("version", 40, g.at(0, 1, 0));
     }
 
@@ -28,7 +28,7 @@ final class EndTest extends Scenes {
         g.decide(0);
         g.end(0);
         due("STATE", 0, g.client(0, 0));
-        due("record", ABSTAIN, g.record(0, 1));
+        due("record", ABSTAIN, g.record(0, SUBJECT));
     }
 
     private static void refusals() {

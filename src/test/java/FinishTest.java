@@ -65,7 +65,7 @@ final class FinishTest extends Scenes {
         g.decide(0);
         due("finish", true, g.finish(0, 2));
         due("finish again", false, g.finish(0, 2));
-        due("record(2, 1)", ABSTAIN | DROPPED, g.record(2, 1));
+        due("record at 2", ABSTAIN | DROPPED, g.record(2, SUBJECT));
         for (int what = 0; what < 3; what++) {
             due("at(2, 1, " + what + ")", 0, g.at(2, 1, what));
             due("at(2, 0, " + what + ")", 0, g.at(2, 0, what));
@@ -78,17 +78,17 @@ final class FinishTest extends Scenes {
         commits.confirm(0, 0);
         commits.confirm(0, 1);
         due("finish", true, commits.finish(0, 2));
-        due("a record made for an applied one", OK | APPLIED, commits.record(2, 1));
+        due("a record made for an applied one", OK | APPLIED, commits.record(2, SUBJECT));
         commits.finish(0, 0);
-        due("a final record of an applied one", OK | FINAL | APPLIED, commits.record(0, 1));
+        due("a final record of an applied one", OK | FINAL | APPLIED, commits.record(0, SUBJECT));
         TapirGroup aborts = answered(OK, ABSTAIN, NOT_ASKED);
         aborts.decide(0);
         aborts.confirm(0, 0);
         aborts.confirm(0, 1);
         due("finish", true, aborts.finish(0, 2));
-        due("a record made for a dropped one", ABORT | DROPPED, aborts.record(2, 1));
+        due("a record made for a dropped one", ABORT | DROPPED, aborts.record(2, SUBJECT));
         aborts.finish(0, 0);
-        due("a final record of a dropped one", ABORT | FINAL | DROPPED, aborts.record(0, 1));
+        due("a final record of a dropped one", ABORT | FINAL | DROPPED, aborts.record(0, SUBJECT));
     }
 
     private static void recordsOfOtherResults() {
@@ -97,14 +97,14 @@ final class FinishTest extends Scenes {
         commits.confirm(0, 0);
         commits.confirm(0, 1);
         due("finish", true, commits.finish(0, 2));
-        due("an applied one with RETRY", RETRY | APPLIED, commits.record(2, 1));
+        due("an applied one with RETRY", RETRY | APPLIED, commits.record(2, SUBJECT));
         due("it is applied", 40, commits.at(2, 1, 0));
         TapirGroup aborts = answered(OK, ABSTAIN, ABSTAIN);
         aborts.decide(0);
         aborts.confirm(0, 1);
         aborts.confirm(0, 2);
         due("finish", true, aborts.finish(0, 0));
-        due("a dropped one with OK", OK | DROPPED, aborts.record(0, 1));
+        due("a dropped one with OK", OK | DROPPED, aborts.record(0, SUBJECT));
         due("it is not applied", 0, aborts.at(0, 1, 0));
     }
 
@@ -127,7 +127,7 @@ final class FinishTest extends Scenes {
         g.change();
         g.power(2, true);
         refused("finish, replica in an old view", UNSUPPORTED, () -> g.finish(0, 2));
-        due("record(2, 1)", OK, g.record(2, 1));
+        due("record at 2", OK, g.record(2, SUBJECT));
         for (int no : NO_INDEX) {
             refused("finish of client " + no, ARGUMENT, () -> g.finish(no, 0));
             refused("finish at replica " + no, ARGUMENT, () -> g.finish(0, no));

@@ -8,6 +8,7 @@ final class PrepareTest extends Scenes {
         retryByAPreparedRead();
         retryByAnAppliedRead();
         retryByAGreaterVersion();
+        everyKeyIsLookedAt();
         theOrderOfTheCheck();
         onlyPreparedOnesCount();
         preparedOnesOfAChangeCount();
@@ -126,6 +127,32 @@ final class PrepareTest extends Scenes {
         due("another key", OK, g.prepare(3, 0));
     }
 
+    private static void everyKeyIsLookedAt() {
+        for (int key = 0; key < 6; key++) {
+            TapirGroup g = new TapirGroup();
+            g.begin(0);
+            g.read(0, key, 0);
+            commitWrite(g, 1, key, 5, 10, 0, 1, 2);
+            g.propose(0, 20);
+            due("a greater version of key " + key, ABORT, g.prepare(0, 0));
+            proposeWrite(g, 2, key, 5, 5);
+            due("a write under a greater version of key " + key, RETRY, g.prepare(2, 0));
+            TapirGroup reads = new TapirGroup();
+            commitRead(reads, 1, key, 10, 0, 1, 2);
+            proposeWrite(reads, 2, key, 5, 5);
+            due("a write under an applied read of key " + key, RETRY, reads.prepare(2, 0));
+            TapirGroup prepared = new TapirGroup();
+            proposeRead(prepared, 0, key, 0, 10);
+            prepared.prepare(0, 0);
+            proposeWrite(prepared, 1, key, 5, 5);
+            due("a write under a prepared read of key " + key, RETRY, prepared.prepare(1, 0));
+            proposeWrite(prepared, 2, key, 5, 20);
+            prepared.prepare(2, 0);
+            proposeRead(prepared, 3, key, 0, 30);
+            due("a read of a prepared write of key " + key, ABSTAIN, prepared.prepare(3, 0));
+        }
+    }
+
     private static void theOrderOfTheCheck() {
         TapirGroup g = new TapirGroup();
         g.begin(0);
@@ -173,7 +200,7 @@ final class PrepareTest extends Scenes {
         proposeRead(both, 2, 1, 0, 90);
         due("a write with OK, before it is dropped", ABSTAIN, both.prepare(2, 0));
         due("finish", true, both.finish(0, 0));
-        due("record of a dropped one with OK", OK | DROPPED, both.record(0, 1));
+        due("record of a dropped one with OK", OK | DROPPED, both.record(0, SUBJECT));
         both.propose(2, 91);
         due("a write with OK, when it is dropped", OK, both.prepare(2, 0));
 
@@ -195,7 +222,7 @@ final class PrepareTest extends Scenes {
     private static void preparedOnesOfAChangeCount() {
         TapirGroup g = answered(OK, OK, OK);
         g.change();
-        due("record", OK | FINAL, g.record(0, 1));
+        due("record", OK | FINAL, g.record(0, SUBJECT));
         proposeRead(g, 2, 1, 0, 90);
         due("a write that is final with OK", ABSTAIN, g.prepare(2, 0));
     }
@@ -222,7 +249,7 @@ final class PrepareTest extends Scenes {
         TapirGroup g = answered(OK, NOT_ASKED, NOT_ASKED);
         g.change();
         due("prepare where a change made the record", ABORT, g.prepare(0, 1));
-        due("record is final still", ABORT | FINAL, g.record(1, 1));
+        due("record is final still", ABORT | FINAL, g.record(1, SUBJECT));
     }
 
     private static void theLatestAnswer() {

@@ -79,7 +79,7 @@ final class ProposeTest extends Scenes {
         due("answers behind propose", 0, g.client(0, 5));
         due("confirmations behind propose", 0, g.client(0, 6));
         for (int r = 0; r < 3; r++) {
-            due("record(" + r + ", 1) behind propose", -1, g.record(r, 1));
+            due("record at " + r + " behind propose", -1, g.record(r, SUBJECT));
         }
         due("another's record stays", OK, g.record(0, 3));
         refused("decide without answers", STATE, () -> g.decide(0));
@@ -89,11 +89,11 @@ final class ProposeTest extends Scenes {
     private static void forgetsRecordsOfEveryKind() {
         TapirGroup g = answered(OK, OK, ABSTAIN);
         g.change();
-        due("record(2, 1) behind a change", ABORT | FINAL, g.record(2, 1));
+        due("record at 2 behind a change", ABORT | FINAL, g.record(2, SUBJECT));
         g.power(2, false);
         g.propose(0, 60);
         for (int r = 0; r < 3; r++) {
-            due("record(" + r + ", 1) behind propose", -1, g.record(r, 1));
+            due("record at " + r + " behind propose", -1, g.record(r, SUBJECT));
         }
         g.power(2, true);
         due("a later check", ABORT, g.prepare(1, 2));

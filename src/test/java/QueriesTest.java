@@ -80,26 +80,26 @@ final class QueriesTest extends Scenes {
 
     private static void records() {
         TapirGroup g = answered(OK, ABSTAIN, RETRY);
-        due("OK", 0, g.record(0, 1));
-        due("ABSTAIN", 1, g.record(1, 1));
-        due("RETRY", 3, g.record(2, 1));
-        due("none of a running one", -1, g.record(1, 3));
+        due("OK", 0, g.record(0, SUBJECT));
+        due("ABSTAIN", 1, g.record(1, SUBJECT));
+        due("RETRY", 3, g.record(2, SUBJECT));
+        due("none where it was not prepared", -1, g.record(1, 3));
         g.propose(0, 60);
         g.prepare(0, 0);
         g.prepare(0, 1);
         due("decide", ABORT, g.decide(0));
         g.confirm(0, 0);
         g.confirm(0, 1);
-        due("ABORT, final", 6, g.record(0, 1));
+        due("ABORT, final", 6, g.record(0, SUBJECT));
         g.finish(0, 0);
-        due("ABORT, final, dropped", 22, g.record(0, 1));
+        due("ABORT, final, dropped", 22, g.record(0, SUBJECT));
         g.finish(0, 2);
-        due("ABORT, dropped", 18, g.record(2, 1));
+        due("ABORT, dropped", 18, g.record(2, SUBJECT));
         for (int no : NO_INDEX) {
-            due("record(" + no + ", 1)", -1, g.record(no, 1));
+            due("record at " + no, -1, g.record(no, SUBJECT));
             due("record(0, " + no + ")", -1, g.record(0, no));
         }
-        due("record(3, 1)", -1, g.record(3, 1));
+        due("record at 3", -1, g.record(3, SUBJECT));
         due("record(0, 0)", -1, g.record(0, 0));
         due("record(0, 4)", -1, g.record(0, 4));
         due("record(0, 60)", -1, g.record(0, 60));

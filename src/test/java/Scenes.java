@@ -16,6 +16,9 @@ abstract class Scenes extends Due {
     static final int TO_COMMIT = 4;
     static final int TO_ABORT = 5;
 
+    /** The number of client 0's transaction in answered(). */
+    static final int SUBJECT = 2;
+
     /** A transaction that writes one key alone begins and is proposed. */
     static int proposeWrite(TapirGroup g, int client, int key, int value, int time) {
         int number = g.begin(client);
@@ -64,16 +67,16 @@ abstract class Scenes extends Due {
     }
 
     /**
-     * A new group in which client 0's transaction 1 (it reads key 0, writes key 1 and is proposed
+     * A new group in which client 0's transaction (it reads key 0, writes key 1 and is proposed
      * with time 10) has been answered so by the replicas 0, 1 and 2.
      */
     static TapirGroup answered(int... wanted) {
         TapirGroup g = new TapirGroup();
-        g.begin(0);
+        proposeWrite(g, 1, 0, 6, 11);
+        due("begin(0) of the scene", SUBJECT, g.begin(0));
         g.read(0, 0, 0);
         g.write(0, 1, 5);
         g.propose(0, 10);
-        proposeWrite(g, 1, 0, 6, 11);
         proposeRead(g, 3, 1, 0, 20);
         // ABORT comes last: the write that brings it stays prepared at all other replicas.
         for (int result : new int[] {OK, RETRY, ABSTAIN, ABORT}) {

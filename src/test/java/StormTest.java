@@ -13,7 +13,7 @@ final class StormTest extends Scenes {
     private static final String[] THROWS = {"AS", "ASUB", "ASB", "AS", "ASU", "AS", "ASU",
         "ASU", "AS", "A", "S", "", "", "", ""};
     /** How often each is called: a run is to come as far as changes of view and ended transactions. */
-    private static final int[] WEIGHTS = {8, 10, 10, 8, 24, 10, 10, 12, 6, 4, 2, 1, 1, 1, 1};
+    private static final int[] WEIGHTS = {10, 6, 6, 4, 36, 12, 24, 16, 4, 2, 1, 1, 1, 1, 1};
 
     private static long seed = 20261115;
 
@@ -57,7 +57,7 @@ final class StormTest extends Scenes {
             case 6: return g.confirm(w[0], w[1]);
             case 7: return g.finish(w[0], w[1]) ? 1 : 0;
             case 8: g.end(w[0]); return 0;
-            case 9: return g.power(w[0], w[1] % 3 != 0) ? 1 : 0;
+            case 9: return g.power(w[0], w[1] % 3 < 2) ? 1 : 0;
             case 10: return g.change();
             case 11: return g.client(w[0], w[1]);
             case 12: return g.at(w[0], w[1], w[2]);
