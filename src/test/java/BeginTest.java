@@ -2,8 +2,6 @@
 final class BeginTest extends Scenes {
     public static void main(String[] args) {
         numbersGoUpOverAllClients();
-        aClientHasOneUntilItEnds();
-        noMoreThanSixty();
         aNewOneStartsClean();
         close();
     }
@@ -22,41 +20,6 @@ final class BeginTest extends Scenes {
         }
         g.change();
         due("record(1, 2) of a running one behind a change", -1, g.record(1, 2));
-        for (int c : NO_INDEX) {
-            refused("begin(" + c + ")", ARGUMENT, () -> g.begin(c));
-        }
-        refused("begin(4)", ARGUMENT, () -> g.begin(4));
-    }
-
-    private static void aClientHasOneUntilItEnds() {
-        TapirGroup g = new TapirGroup();
-        g.begin(1);
-        refused("begin(1) when running", STATE, () -> g.begin(1));
-        g.propose(1, 1);
-        refused("begin(1) when proposed", STATE, () -> g.begin(1));
-        decideToCommit(g, 1);
-        refused("begin(1) when decided", STATE, () -> g.begin(1));
-        g.end(1);
-        due("begin(1) when ended", 2, g.begin(1));
-
-        TapirGroup slow = answered(OK, OK, NOT_ASKED);
-        slow.decide(0);
-        refused("begin(0) when slow", STATE, () -> slow.begin(0));
-    }
-
-    private static void noMoreThanSixty() {
-        TapirGroup g = new TapirGroup();
-        for (int number = 1; number <= 60; number++) {
-            int client = number % 4;
-            due("begin(" + client + ")", number, g.begin(client));
-            g.propose(client, number);
-            decideToCommit(g, client);
-            g.end(client);
-        }
-        refused("begin(0) behind 60", STATE, () -> g.begin(0));
-        refused("begin(4) behind 60", ARGUMENT, () -> g.begin(4));
-        due("state(1)", 60, g.state(1));
-        due("record(0, 60)", OK, g.record(0, 60));
     }
 
     private static void aNewOneStartsClean() {

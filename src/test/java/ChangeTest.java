@@ -12,7 +12,6 @@ final class ChangeTest extends Scenes {
         versionsAndReads();
         theOneThatIsDown();
         whatClientsHaveStays();
-        refusals();
         close();
     }
 
@@ -246,18 +245,5 @@ final class ChangeTest extends Scenes {
             }
         }
         return text.toString();
-    }
-
-    private static void refusals() {
-        TapirGroup g = new TapirGroup();
-        g.power(0, false);
-        g.power(2, false);
-        refused("change of one", STATE, g::change);
-        g.power(1, false);
-        refused("change of none", STATE, g::change);
-        due("the group's view", 0, g.state(0));
-        g.power(0, true);
-        g.power(2, true);
-        due("change of two", 1, g.change());
     }
 }

@@ -7,7 +7,6 @@ final class ConfirmTest extends Scenes {
         aRecordOfAChangeConfirms();
         aFinalRecordOfAnotherResult();
         confirmationsStayBehindAChange();
-        refusals();
         close();
     }
 
@@ -88,32 +87,5 @@ final class ConfirmTest extends Scenes {
         due("record at 0", ABORT | FINAL, g.record(0, SUBJECT));
         due("confirm at 0 again", 1, g.confirm(0, 0));
         due("STATE", SLOW, g.client(0, 0));
-    }
-
-    private static void refusals() {
-        TapirGroup g = answered(OK, OK, NOT_ASKED);
-        refused("confirm when proposed", STATE, () -> g.confirm(0, 0));
-        g.power(2, false);
-        refused("confirm when proposed, replica down", STATE, () -> g.confirm(0, 2));
-        refused("no such replica, when proposed", ARGUMENT, () -> g.confirm(0, 3));
-        g.decide(0);
-        refused("confirm, replica down", UNSUPPORTED, () -> g.confirm(0, 2));
-        due("record at 2", -1, g.record(2, SUBJECT));
-        g.change();
-        g.power(2, true);
-        refused("confirm, replica in an old view", UNSUPPORTED, () -> g.confirm(0, 2));
-        for (int no : NO_INDEX) {
-            refused("confirm of client " + no, ARGUMENT, () -> g.confirm(no, 0));
-            refused("confirm at replica " + no, ARGUMENT, () -> g.confirm(0, no));
-        }
-        refused("confirm of client 4", ARGUMENT, () -> g.confirm(4, 0));
-        refused("confirm at replica 3", ARGUMENT, () -> g.confirm(0, 3));
-        g.confirm(0, 0);
-        g.confirm(0, 1);
-        refused("confirm when decided", STATE, () -> g.confirm(0, 0));
-        g.end(0);
-        refused("confirm without a transaction", STATE, () -> g.confirm(0, 0));
-        g.begin(0);
-        refused("confirm when running", STATE, () -> g.confirm(0, 0));
     }
 }

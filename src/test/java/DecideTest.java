@@ -7,7 +7,6 @@ final class DecideTest extends Scenes {
         threeNotAlike();
         two();
         retryLeavesItProposed();
-        refusals();
         close();
     }
 
@@ -79,32 +78,5 @@ final class DecideTest extends Scenes {
         again.decide(0);
         again.propose(0, 40);
         decideToCommit(again, 0);
-    }
-
-    private static void refusals() {
-        TapirGroup none = new TapirGroup();
-        refused("decide without a transaction", STATE, () -> none.decide(0));
-        none.begin(0);
-        refused("decide when running", STATE, () -> none.decide(0));
-        none.propose(0, 1);
-        refused("decide without answers", STATE, () -> none.decide(0));
-        none.prepare(0, 2);
-        none.prepare(0, 2);
-        refused("decide with one answer", STATE, () -> none.decide(0));
-        for (int no : NO_INDEX) {
-            refused("decide of client " + no, ARGUMENT, () -> none.decide(no));
-        }
-        refused("decide of client 4", ARGUMENT, () -> none.decide(4));
-        TapirGroup slow = answered(OK, OK, NOT_ASKED);
-        slow.decide(0);
-        refused("decide when slow", STATE, () -> slow.decide(0));
-        TapirGroup commits = answered(OK, OK, OK);
-        commits.decide(0);
-        refused("decide when decided to commit", STATE, () -> commits.decide(0));
-        TapirGroup aborts = answered(ABORT, ABORT, ABORT);
-        aborts.decide(0);
-        refused("decide when decided to abort", STATE, () -> aborts.decide(0));
-        aborts.end(0);
-        refused("decide when ended", STATE, () -> aborts.decide(0));
     }
 }

@@ -5,14 +5,24 @@ abstract class Due {
     static final Class<?> UNSUPPORTED = UnsupportedOperationException.class;
     static final Class<?> BOUNDS = IndexOutOfBoundsException.class;
 
-    static final int[] NO_INDEX = {-1, Integer.MIN_VALUE, Integer.MAX_VALUE};
-
     private static int wrong = 0;
+    private static String words = "";
+
+    /** Runs a test that stands for these words of the document; what is wrong is told with them. */
+    static void sentence(String said, Runnable test) {
+        words = "'" + said + "': ";
+        test.run();
+        words = "";
+    }
+
+    private static void tellWrong(String what) {
+        wrong++;
+        System.out.println(words + what);
+    }
 
     static void due(String what, long want, long got) {
         if (want != got) {
-            wrong++;
-            System.out.println(what + " answered " + got + ", due is " + want);
+            tellWrong(what + " answered " + got + ", due is " + want);
         }
     }
 
@@ -22,8 +32,7 @@ abstract class Due {
 
     static void due(String what, String want, String got) {
         if (!want.equals(got)) {
-            wrong++;
-            System.out.println(what + " is " + got + ", due is " + want);
+            tellWrong(what + " is " + got + ", due is " + want);
         }
     }
 
@@ -35,8 +44,7 @@ abstract class Due {
             got = e.getClass();
         }
         if (got != want) {
-            wrong++;
-            System.out.println(what + " throws " + got + ", due is " + want);
+            tellWrong(what + " throws " + got + ", due is " + want);
         }
     }
 

@@ -3,7 +3,6 @@ final class EndTest extends Scenes {
     public static void main(String[] args) {
         aDecidedOneEnds();
         anAbortedOneEnds();
-        refusals();
         close();
     }
 
@@ -29,23 +28,5 @@ final class EndTest extends Scenes {
         g.end(0);
         due("STATE", 0, g.client(0, 0));
         due("record", ABSTAIN, g.record(0, SUBJECT));
-    }
-
-    private static void refusals() {
-        TapirGroup g = answered(OK, OK, NOT_ASKED);
-        for (int no : NO_INDEX) {
-            refused("end of client " + no, ARGUMENT, () -> g.end(no));
-        }
-        refused("end of client 4", ARGUMENT, () -> g.end(4));
-        refused("end when proposed", STATE, () -> g.end(0));
-        g.decide(0);
-        refused("end when slow", STATE, () -> g.end(0));
-        g.confirm(0, 0);
-        g.confirm(0, 1);
-        g.end(0);
-        refused("end again", STATE, () -> g.end(0));
-        g.begin(0);
-        refused("end when running", STATE, () -> g.end(0));
-        refused("end without a transaction", STATE, () -> new TapirGroup().end(3));
     }
 }

@@ -7,7 +7,6 @@ final class FinishTest extends Scenes {
         madeRecords();
         recordsOfOtherResults();
         behindAChange();
-        refusals();
         close();
     }
 
@@ -114,32 +113,5 @@ final class FinishTest extends Scenes {
         g.finish(0, 0);
         g.change();
         due("finish where a change applied it", false, g.finish(0, 1));
-    }
-
-    private static void refusals() {
-        TapirGroup g = answered(OK, OK, OK);
-        refused("finish when proposed", STATE, () -> g.finish(0, 0));
-        g.power(2, false);
-        refused("finish when proposed, replica down", STATE, () -> g.finish(0, 2));
-        refused("no such replica, when proposed", ARGUMENT, () -> g.finish(0, 3));
-        g.decide(0);
-        refused("finish, replica down", UNSUPPORTED, () -> g.finish(0, 2));
-        g.change();
-        g.power(2, true);
-        refused("finish, replica in an old view", UNSUPPORTED, () -> g.finish(0, 2));
-        due("record at 2", OK, g.record(2, SUBJECT));
-        for (int no : NO_INDEX) {
-            refused("finish of client " + no, ARGUMENT, () -> g.finish(no, 0));
-            refused("finish at replica " + no, ARGUMENT, () -> g.finish(0, no));
-        }
-        refused("finish of client 4", ARGUMENT, () -> g.finish(4, 0));
-        refused("finish at replica 3", ARGUMENT, () -> g.finish(0, 3));
-        g.end(0);
-        refused("finish when ended", STATE, () -> g.finish(0, 0));
-        g.begin(0);
-        refused("finish when running", STATE, () -> g.finish(0, 0));
-        TapirGroup slow = answered(OK, OK, NOT_ASKED);
-        slow.decide(0);
-        refused("finish when slow", STATE, () -> slow.finish(0, 0));
     }
 }

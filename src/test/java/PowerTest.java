@@ -3,7 +3,6 @@ final class PowerTest extends Scenes {
     public static void main(String[] args) {
         downAndUp();
         whatItKnewStays();
-        refusals();
         close();
     }
 
@@ -35,14 +34,5 @@ final class PowerTest extends Scenes {
         due("record", OK | APPLIED, g.record(2, 1));
         due("view", 0, g.state(4));
         due("the group's view", 1, g.state(0));
-    }
-
-    private static void refusals() {
-        TapirGroup g = new TapirGroup();
-        for (int no : NO_INDEX) {
-            refused("power of replica " + no, ARGUMENT, () -> g.power(no, true));
-            refused("power of replica " + no, ARGUMENT, () -> g.power(no, false));
-        }
-        refused("power of replica 3", ARGUMENT, () -> g.power(3, false));
     }
 }

@@ -16,7 +16,6 @@ final class PrepareTest extends Scenes {
         theRecordIsKept();
         theRecordOfAChange();
         theLatestAnswer();
-        refusals();
         close();
     }
 
@@ -258,33 +257,5 @@ final class PrepareTest extends Scenes {
         due("prepare where a change made another result", ABORT, g.prepare(0, 0));
         due("answers", 2, g.client(0, 5));
         due("decide by the latest", ABORT, g.decide(0));
-    }
-
-    private static void refusals() {
-        TapirGroup g = new TapirGroup();
-        refused("prepare without a transaction", STATE, () -> g.prepare(0, 0));
-        g.begin(0);
-        refused("prepare when running", STATE, () -> g.prepare(0, 0));
-        g.power(1, false);
-        refused("prepare when running, replica down", STATE, () -> g.prepare(0, 1));
-        refused("no such replica, when running", ARGUMENT, () -> g.prepare(0, 3));
-        g.propose(0, 1);
-        refused("prepare, replica down", UNSUPPORTED, () -> g.prepare(0, 1));
-        g.change();
-        g.power(1, true);
-        refused("prepare, replica in an old view", UNSUPPORTED, () -> g.prepare(0, 1));
-        for (int no : NO_INDEX) {
-            refused("prepare of client " + no, ARGUMENT, () -> g.prepare(no, 0));
-            refused("prepare at replica " + no, ARGUMENT, () -> g.prepare(0, no));
-        }
-        refused("prepare of client 4", ARGUMENT, () -> g.prepare(4, 0));
-        refused("prepare at replica 3", ARGUMENT, () -> g.prepare(0, 3));
-
-        TapirGroup slow = answered(OK, OK, NOT_ASKED);
-        slow.decide(0);
-        refused("prepare when slow", STATE, () -> slow.prepare(0, 2));
-        TapirGroup done = answered(OK, OK, OK);
-        done.decide(0);
-        refused("prepare when decided", STATE, () -> done.prepare(0, 2));
     }
 }

@@ -1,74 +1,10 @@
 /** Promise 5: propose. */
 final class ProposeTest extends Scenes {
     public static void main(String[] args) {
-        theTimestamp();
-        onlyWhenRunningOrProposed();
-        onlyWithALaterTime();
-        wrongArguments();
         forgetsAnswersAndRecords();
         forgetsRecordsOfEveryKind();
         readsAndWritesStay();
         close();
-    }
-
-    private static void theTimestamp() {
-        TapirGroup g = new TapirGroup();
-        for (int c = 0; c < 4; c++) {
-            g.begin(c);
-            g.propose(c, 1);
-            due("client(" + c + ", 2)", 4 + c, g.client(c, 2));
-            due("client(" + c + ", 0)", PROPOSED, g.client(c, 0));
-            g.propose(c, 1000000);
-            due("client(" + c + ", 2) behind the last time", 4000000 + c, g.client(c, 2));
-        }
-    }
-
-    private static void onlyWhenRunningOrProposed() {
-        TapirGroup g = answered(OK, OK, NOT_ASKED);
-        refused("propose without a transaction", STATE,
-            () -> new TapirGroup().propose(0, 1));
-        g.decide(0);
-        refused("propose when slow", STATE, () -> g.propose(0, 100));
-        g.confirm(0, 0);
-        g.confirm(0, 1);
-        refused("propose when decided to commit", STATE, () -> g.propose(0, 100));
-        g.end(0);
-        refused("propose when ended", STATE, () -> g.propose(0, 100));
-
-        TapirGroup aborts = answered(ABSTAIN, ABSTAIN, ABSTAIN);
-        aborts.decide(0);
-        refused("propose when decided to abort", STATE, () -> aborts.propose(0, 100));
-    }
-
-    private static void onlyWithALaterTime() {
-        TapirGroup g = new TapirGroup();
-        g.begin(0);
-        g.begin(1);
-        g.propose(0, 50);
-        refused("the same time", STATE, () -> g.propose(0, 50));
-        refused("an earlier time", STATE, () -> g.propose(0, 49));
-        g.propose(1, 50);
-        g.propose(0, 51);
-        decideToCommit(g, 0);
-        g.end(0);
-        g.begin(0);
-        refused("the same time, another transaction", STATE, () -> g.propose(0, 51));
-        refused("an earlier time, another transaction", STATE, () -> g.propose(0, 1));
-        g.propose(0, 52);
-        due("client(0, 2)", 208, g.client(0, 2));
-    }
-
-    private static void wrongArguments() {
-        TapirGroup g = new TapirGroup();
-        g.begin(0);
-        for (int no : NO_INDEX) {
-            refused("propose of client " + no, ARGUMENT, () -> g.propose(no, 1));
-            refused("propose with time " + no, ARGUMENT, () -> g.propose(0, no));
-        }
-        refused("propose of client 4", ARGUMENT, () -> g.propose(4, 1));
-        refused("propose with time 0", ARGUMENT, () -> g.propose(0, 0));
-        refused("propose with time 1000001", ARGUMENT, () -> g.propose(0, 1000001));
-        refused("propose with time 0, no transaction", ARGUMENT, () -> g.propose(1, 0));
     }
 
     private static void forgetsAnswersAndRecords() {

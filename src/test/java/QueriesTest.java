@@ -2,8 +2,7 @@
 final class QueriesTest extends Scenes {
     public static void main(String[] args) {
         aClientOnItsWay();
-        noSuchClientOrWhat();
-        noSuchReplicaOrKey();
+        versionsValuesAndReads();
         records();
         states();
         close();
@@ -48,34 +47,14 @@ final class QueriesTest extends Scenes {
         due("STATE", TO_ABORT, aborts.client(0, 0));
     }
 
-    private static void noSuchClientOrWhat() {
-        TapirGroup g = new TapirGroup();
-        g.begin(0);
-        for (int no : NO_INDEX) {
-            due("client(" + no + ", 0)", -1, g.client(no, 0));
-            due("client(0, " + no + ")", -1, g.client(0, no));
-            due("client(1, " + no + ")", -1, g.client(1, no));
-        }
-        due("client(4, 0)", -1, g.client(4, 0));
-        due("client(0, 8)", -1, g.client(0, 8));
-        due("client(1, 8), without a transaction", -1, g.client(1, 8));
-    }
-
-    private static void noSuchReplicaOrKey() {
+    private static void versionsValuesAndReads() {
         TapirGroup g = new TapirGroup();
         commitWrite(g, 0, 5, 3, 1, 2);
         commitRead(g, 1, 0, 2, 2);
         due("at(2, 5, 0)", 4, g.at(2, 5, 0));
         due("at(2, 5, 1)", 3, g.at(2, 5, 1));
         due("at(2, 0, 2)", 9, g.at(2, 0, 2));
-        for (int no : NO_INDEX) {
-            due("at(" + no + ", 0, 0)", -1, g.at(no, 0, 0));
-            due("at(0, " + no + ", 0)", -1, g.at(0, no, 0));
-            due("at(0, 0, " + no + ")", -1, g.at(0, 0, no));
-        }
-        due("at(3, 0, 0)", -1, g.at(3, 0, 0));
-        due("at(0, 6, 0)", -1, g.at(0, 6, 0));
-        due("at(0, 0, 3)", -1, g.at(0, 0, 3));
+        due("at(1, 5, 0), where it is not finished", 0, g.at(1, 5, 0));
     }
 
     private static void records() {
@@ -95,15 +74,6 @@ final class QueriesTest extends Scenes {
         due("ABORT, final, dropped", 22, g.record(0, SUBJECT));
         g.finish(0, 2);
         due("ABORT, dropped", 18, g.record(2, SUBJECT));
-        for (int no : NO_INDEX) {
-            due("record at " + no, -1, g.record(no, SUBJECT));
-            due("record(0, " + no + ")", -1, g.record(0, no));
-        }
-        due("record at 3", -1, g.record(3, SUBJECT));
-        due("record(0, 0)", -1, g.record(0, 0));
-        due("record(0, 4)", -1, g.record(0, 4));
-        due("record(0, 60)", -1, g.record(0, 60));
-        due("record(0, 61)", -1, g.record(0, 61));
     }
 
     private static void states() {
@@ -118,9 +88,5 @@ final class QueriesTest extends Scenes {
         for (int what = 0; what < 8; what++) {
             due("state(" + what + ")", want[what], g.state(what));
         }
-        for (int no : NO_INDEX) {
-            due("state(" + no + ")", -1, g.state(no));
-        }
-        due("state(8)", -1, g.state(8));
     }
 }

@@ -1,79 +1,122 @@
+import java.lang.reflect.InvocationTargetException;
+import java.lang.reflect.Method;
+import java.util.Arrays;
+
 /**
- * Long runs of calls of every kind, with right and wrong arguments: a call throws what its face
- * names and nothing else, and a call that is refused changes nothing (a second object that gets
- * the other calls alone answers the same).
+ * Runs of calls of every kind, with right and wrong arguments, on an object and on the Model at
+ * once: each call answers or throws the same, and at the end all that can be seen is the same.
  */
-final class StormTest extends Scenes {
-    private static final int RUNS = 3000;
-    /** What is seen at the end must fit into the 512 calls of an object, too. */
-    private static final int CALLS = 230;
+final class StormTest extends Due {
+    private static final int RUNS = 4000;
+    /** What is looked at in the end must fit into the 512 calls of an object, too. */
+    private static final int MOST_CALLS = 320;
     private static final String[] NAMES = {"begin", "read", "write", "propose", "prepare", "decide", "confirm",
         "finish", "end", "power", "change", "client", "at", "record", "state"};
-    /** What each of them may throw: A, S, U or B for the four kinds of exception. */
-    private static final String[] THROWS = {"AS", "ASUB", "ASB", "AS", "ASU", "AS", "ASU",
-        "ASU", "AS", "A", "S", "", "", "", ""};
     /** How often each is called: a run is to come as far as changes of view and ended transactions. */
-    private static final int[] WEIGHTS = {10, 6, 6, 4, 36, 12, 24, 16, 4, 2, 1, 1, 1, 1, 1};
+    private static final int[] WEIGHTS = {10, 8, 8, 4, 36, 12, 24, 16, 4, 2, 1, 1, 1, 1, 1};
+    private static final int[] ODD = {-1, 0, 3, 4, 5, 6, 7, 8, 60, 61, 1000000, 1000001, Integer.MIN_VALUE,
+        Integer.MAX_VALUE};
+
+    private static final Method[] OF_GROUP = new Method[NAMES.length];
+    private static final Method[] OF_MODEL = new Method[NAMES.length];
 
     private static long seed = 20261115;
 
-    public static void main(String[] args) {
+    public static void main(String[] args) throws ReflectiveOperationException {
+        for (Method method : TapirGroup.class.getMethods()) {
+            int kind = Arrays.asList(NAMES).indexOf(method.getName());
+            if (kind >= 0) {
+                OF_GROUP[kind] = method;
+                OF_MODEL[kind] = Model.class.getDeclaredMethod(method.getName(), method.getParameterTypes());
+            }
+        }
         for (int run = 1; run <= RUNS; run++) {
             storm(run);
         }
         close();
     }
 
-    private static void storm(int run) {
-        TapirGroup all = new TapirGroup();
-        TapirGroup taken = new TapirGroup();
-        for (int i = 0; i < CALLS; i++) {
+    private static void storm(int run) throws ReflectiveOperationException {
+        TapirGroup group = new TapirGroup();
+        Model model = new Model();
+        // With few keys transactions meet more often, with all of them they get full.
+        int keys = 1 + next(6);
+        int calls = 20 + next(MOST_CALLS - 19);
+        for (int i = 0; i < calls; i++) {
             int kind = nextKind();
-            int[] words = {argument(kind, 0, i), argument(kind, 1, i), argument(kind, 2, i)};
-            String what = "run " + run + ", call " + i + ": " + NAMES[kind] + java.util.Arrays.toString(words);
-            try {
-                long answer = call(all, kind, words);
-                due(what, answer, call(taken, kind, words));
-            } catch (RuntimeException e) {
-                due(what + " may throw " + e, true, THROWS[kind].indexOf(letter(e)) >= 0);
+            same("run " + run + ", call " + i, group, model, kind, arguments(kind, keys, i));
+        }
+        for (int what = 0; what < 8; what++) {
+            same("run " + run + ", at its end", group, model, 14, what);
+            for (int c = 0; c < 4; c++) {
+                same("run " + run + ", at its end", group, model, 11, c, what);
             }
         }
-        due("run " + run + ", at its end", seen(taken), seen(all));
-    }
-
-    private static char letter(RuntimeException e) {
-        Class<?> kind = e.getClass();
-        return kind == ARGUMENT ? 'A' : kind == STATE ? 'S' : kind == UNSUPPORTED ? 'U' : kind == BOUNDS ? 'B' : '?';
-    }
-
-    private static long call(TapirGroup g, int kind, int[] w) {
-        switch (kind) {
-            case 0: return g.begin(w[0]);
-            case 1: return g.read(w[0], w[1], w[2]);
-            case 2: g.write(w[0], w[1], w[2]); return 0;
-            case 3: g.propose(w[0], w[1]); return 0;
-            case 4: return g.prepare(w[0], w[1]);
-            case 5: return g.decide(w[0]);
-            case 6: return g.confirm(w[0], w[1]);
-            case 7: return g.finish(w[0], w[1]) ? 1 : 0;
-            case 8: g.end(w[0]); return 0;
-            case 9: return g.power(w[0], w[1] % 3 < 2) ? 1 : 0;
-            case 10: return g.change();
-            case 11: return g.client(w[0], w[1]);
-            case 12: return g.at(w[0], w[1], w[2]);
-            case 13: return g.record(w[0], w[1]);
-            default: return g.state(w[0]);
+        for (int r = 0; r < 3; r++) {
+            for (int key = 0; key < 6; key++) {
+                for (int what = 0; what < 3; what++) {
+                    same("run " + run + ", at its end", group, model, 12, r, key, what);
+                }
+            }
+            for (int number = 1; number <= model.state(1); number++) {
+                same("run " + run + ", at its end", group, model, 13, r, number);
+            }
         }
     }
 
-    private static int argument(int kind, int place, int i) {
-        if (next(60) == 0) {
-            return new int[] {-1, 3, 4, 6, 8, 61, Integer.MIN_VALUE, Integer.MAX_VALUE}[next(8)];
+    private static void same(String when, TapirGroup group, Model model, int kind, Object... words)
+            throws ReflectiveOperationException {
+        String want = answer(OF_MODEL[kind], model, words);
+        String got = answer(OF_GROUP[kind], group, words);
+        due(when + ": " + NAMES[kind] + Arrays.toString(words), want, got);
+    }
+
+    private static String answer(Method call, Object on, Object... words) throws ReflectiveOperationException {
+        try {
+            return String.valueOf(call.invoke(on, words));
+        } catch (InvocationTargetException e) {
+            return e.getCause().getClass().getSimpleName();
         }
-        if (kind == 3 && place == 1) {
-            return 1 + i / 3 + next(8);
+    }
+
+    private static Object[] arguments(int kind, int keys, int i) {
+        boolean odd = next(25) == 0;
+        int first = kind >= 12 || kind == 9 ? next(3) : next(4);
+        switch (NAMES[kind]) {
+            case "change":
+                return new Object[0];
+            case "begin", "decide", "end":
+                return new Object[] {odd ? oddOne() : first};
+            case "state":
+                return new Object[] {odd ? oddOne() : next(8)};
+            case "power":
+                return new Object[] {odd ? oddOne() : first, next(3) > 0};
+            case "read":
+                return withOdd(odd, first, next(keys), next(3));
+            case "write":
+                return withOdd(odd, first, next(keys), next(100) - 50);
+            case "at":
+                return withOdd(odd, first, next(keys), next(3));
+            case "propose":
+                return withOdd(odd, first, 1 + i / 3 + next(8));
+            case "client":
+                return withOdd(odd, first, next(8));
+            case "record":
+                return withOdd(odd, first, 1 + next(12));
+            default:
+                return withOdd(odd, first, next(3));
         }
-        return next(place == 0 && kind != 9 && kind < 12 ? 4 : 3);
+    }
+
+    private static Object[] withOdd(boolean odd, Object... words) {
+        if (odd) {
+            words[next(words.length)] = oddOne();
+        }
+        return words;
+    }
+
+    private static int oddOne() {
+        return ODD[next(ODD.length)];
     }
 
     private static int nextKind() {

@@ -1,0 +1,273 @@
+/** Promise 12, change, and the change of view: each sentence that names a boundary case. */
+final class ChangeEdgesTest extends Edges {
+    private static final int NOBODY = 3;
+
+    public static void main(String[] args) {
+        sentence("of all replicas that are up (two at least)", ChangeEdgesTest::twoAtLeast);
+        sentence("fewer than two are up", ChangeEdgesTest::fewerThanTwo);
+        sentence("All then have the next view (the group's and one)", ChangeEdgesTest::nextView);
+        sentence("a transaction of which some of them has a record", ChangeEdgesTest::noRecords);
+        sentence("applied, if it is at some", ChangeEdgesTest::appliedAtOne);
+        sentence("dropped, if it is at some", ChangeEdgesTest::droppedAtOne);
+        sentence("FINAL with that result, if it is at some of those with the greatest view among them",
+            ChangeEdgesTest::finalAtOne);
+        sentence("if two of them have the same result and that is not OK, that result, FINAL; else it waits",
+            ChangeEdgesTest::everyMixOfRecords);
+        sentence("Versions, values and reads at all of them become the greatest at any",
+            ChangeEdgesTest::greatestAtAny);
+        sentence("Versions, values and reads at all of them become the greatest at any",
+            ChangeEdgesTest::oneMoreOrLess);
+        sentence("what clients have stays", ChangeEdgesTest::whatClientsHave);
+        close();
+    }
+
+    private static void twoAtLeast() {
+        due("change of three", 1, new TapirGroup().change());
+        for (int down = 0; down < 3; down++) {
+            TapirGroup g = new TapirGroup();
+            g.power(down, false);
+            due("change of two", 1, g.change());
+            for (int r = 0; r < 3; r++) {
+                due("view of " + r, r == down ? 0 : 1, g.state(2 + r));
+            }
+        }
+    }
+
+    private static void fewerThanTwo() {
+        for (int state : ALL_STATES) {
+            for (int r = 0; r < 3; r++) {
+                int up = r;
+                refusedIn(() -> onlyUp(state, up), "change of " + r + " alone", STATE, TapirGroup::change);
+            }
+            refusedIn(() -> onlyUp(state, NOBODY), "change of none", STATE, TapirGroup::change);
+        }
+        TapirGroup g = onlyUp(SLOW, 1);
+        refused("change of one", STATE, g::change);
+        g.power(2, true);
+        due("change of two, a refused one takes no view", 1, g.change());
+    }
+
+    private static TapirGroup onlyUp(int state, int up) {
+        TapirGroup g = inState(state);
+        for (int r = 0; r < 3; r++) {
+            g.power(r, r == up);
+        }
+        return g;
+    }
+
+    private static void nextView() {
+        TapirGroup g = new TapirGroup();
+        int view = 0;
+        for (int round = 0; round < 12; round++) {
+            int down = round % 3;
+            g.power((down + 2) % 3, true);
+            g.power(down, false);
+            int before = g.state(2 + down);
+            view++;
+            due("change", view, g.change());
+            due("the group's view", view, g.state(0));
+            due("view of the one that is down", before, g.state(2 + down));
+            due("view of another", view, g.state(2 + (down + 1) % 3));
+            due("view of the third", view, g.state(2 + (down + 2) % 3));
+        }
+    }
+
+    private static void noRecords() {
+        TapirGroup none = new TapirGroup();
+        due("change of a new object", 1, none.change());
+        due("transactions", 0, none.state(1));
+        for (int state : new int[] {RUNNING, PROPOSED}) {
+            TapirGroup g = inState(RUNNING);
+            if (state == PROPOSED) {
+                g.propose(0, 10);
+            }
+            g.change();
+            for (int r = 0; r < 3; r++) {
+                due("record at " + r + ", nowhere prepared", -1, g.record(r, MINE));
+            }
+        }
+        for (int r = 0; r < 3; r++) {
+            TapirGroup g = inState(RUNNING);
+            g.propose(0, 10);
+            g.prepare(0, r);
+            g.power(r, false);
+            g.change();
+            for (int other = 0; other < 3; other++) {
+                due("record at " + other + ", prepared where it is down", other == r ? OK : -1,
+                    g.record(other, MINE));
+            }
+        }
+    }
+
+    private static void appliedAtOne() {
+        for (int r = 0; r < 3; r++) {
+            TapirGroup g = inState(TO_COMMIT);
+            g.finish(0, r);
+            g.change();
+            for (int other = 0; other < 3; other++) {
+                due("record at " + other, OK | APPLIED, g.record(other, MINE));
+                due("version at " + other, 40, g.at(other, WRITTEN_KEY, 0));
+                due("value at " + other, 7, g.at(other, WRITTEN_KEY, 1));
+                due("read at " + other, 40, g.at(other, READ_KEY, 2));
+            }
+        }
+        TapirGroup made = inState(SLOW);
+        made.confirm(0, 0);
+        made.confirm(0, 1);
+        made.finish(0, 0);
+        made.change();
+        due("a final record", OK | FINAL | APPLIED, made.record(1, MINE));
+        due("a record that is made", OK | APPLIED, made.record(2, MINE));
+    }
+
+    private static void droppedAtOne() {
+        for (int r = 0; r < 3; r++) {
+            TapirGroup g = inState(TO_ABORT);
+            g.finish(0, r);
+            g.change();
+            for (int other = 0; other < 3; other++) {
+                due("record at " + other, ABORT | DROPPED, g.record(other, MINE));
+                due("version at " + other, 0, g.at(other, WRITTEN_KEY, 0));
+                due("read at " + other, 0, g.at(other, READ_KEY, 2));
+            }
+        }
+        TapirGroup made = answered(OK, ABSTAIN, NOT_ASKED);
+        made.decide(0);
+        made.confirm(0, 1);
+        made.confirm(0, 0);
+        made.finish(0, 1);
+        made.change();
+        due("a final record", ABORT | FINAL | DROPPED, made.record(0, SUBJECT));
+        due("a record that is made", ABORT | DROPPED, made.record(2, SUBJECT));
+    }
+
+    private static void finalAtOne() {
+        for (int r = 0; r < 3; r++) {
+            TapirGroup g = inState(SLOW);
+            g.confirm(0, r);
+            g.change();
+            for (int other = 0; other < 3; other++) {
+                due("record at " + other, OK | FINAL, g.record(other, MINE));
+            }
+            TapirGroup alike = answered(r == 0 ? ABORT : RETRY, r == 1 ? ABORT : RETRY, r == 2 ? ABORT : RETRY);
+            alike.decide(0);
+            alike.confirm(0, r);
+            alike.change();
+            for (int other = 0; other < 3; other++) {
+                due("record at " + other + " beside two alike", ABORT | FINAL, alike.record(other, SUBJECT));
+            }
+        }
+        TapirGroup old = inState(SLOW);
+        old.confirm(0, 0);
+        old.power(0, false);
+        old.change();
+        due("a final one that is down gives nothing", ABORT | FINAL, old.record(1, MINE));
+        old.power(0, true);
+        due("its record when it is up again", OK | FINAL, old.record(0, MINE));
+        old.power(1, false);
+        old.change();
+        due("the final one of the greatest view", ABORT | FINAL, old.record(0, MINE));
+        due("also where it was", ABORT | FINAL, old.record(2, MINE));
+        due("the one that is down keeps it", ABORT | FINAL, old.record(1, MINE));
+    }
+
+    /** All records that are not final, of all three replicas and of two of them, none of which is down. */
+    private static void everyMixOfRecords() {
+        for (int mix = 0; mix < 125; mix++) {
+            int[] records = {mix % 5 - 1, mix / 5 % 5 - 1, mix / 25 - 1};
+            for (int down = 0; down <= NOBODY; down++) {
+                TapirGroup g = answered(records);
+                if (down != NOBODY) {
+                    g.power(down, false);
+                }
+                g.change();
+                int want = merged(records, down);
+                for (int r = 0; r < 3; r++) {
+                    due("record at " + r + " of " + java.util.Arrays.toString(records) + " with " + down + " down",
+                        r == down ? records[r] : want, g.record(r, SUBJECT));
+                }
+            }
+        }
+    }
+
+    private static int merged(int[] records, int down) {
+        int members = down == NOBODY ? 3 : 2;
+        int[] count = new int[5];
+        for (int r = 0; r < 3; r++) {
+            if (r != down) {
+                count[records[r] + 1]++;
+            }
+        }
+        if (count[0] == members) {
+            return -1;
+        }
+        for (int result = ABSTAIN; result <= RETRY; result++) {
+            if (count[result + 1] >= 2) {
+                return result | FINAL;
+            }
+        }
+        return (count[OK + 1] == members ? OK : ABORT) | FINAL;
+    }
+
+    private static void greatestAtAny() {
+        int[] values = {Integer.MAX_VALUE, Integer.MIN_VALUE, -1};
+        for (int key = 0; key < 6; key++) {
+            for (int newest = 0; newest < 3; newest++) {
+                TapirGroup g = new TapirGroup();
+                for (int i = 1; i <= 3; i++) {
+                    commitWrite(g, i, key, values[i - 1], 10 * i, (newest + i) % 3);
+                }
+                for (int i = 1; i <= 3; i++) {
+                    commitRead(g, i, (key + 1) % 6, 50 + i, (newest + i) % 3);
+                }
+                due("version before the change", 123, g.at(newest, key, 0));
+                g.change();
+                for (int r = 0; r < 3; r++) {
+                    due("version of key " + key + " at " + r, 123, g.at(r, key, 0));
+                    due("value of key " + key + " at " + r, -1, g.at(r, key, 1));
+                    due("read of the key behind " + key + " at " + r, 215, g.at(r, (key + 1) % 6, 2));
+                    due("version of the key behind " + key + " at " + r, 0, g.at(r, (key + 1) % 6, 0));
+                }
+            }
+        }
+    }
+
+    private static void oneMoreOrLess() {
+        for (int more = 0; more < 2; more++) {
+            TapirGroup g = new TapirGroup();
+            for (int c = 0; c < 2; c++) {
+                g.begin(c);
+                g.read(c, 1, 0);
+                g.write(c, 0, 100 - c);
+                g.propose(c, 10);
+                decideToCommit(g, c);
+                g.finish(c, c == 1 ? more : 1 - more);
+            }
+            g.change();
+            for (int r = 0; r < 3; r++) {
+                due("version of 40 and 41 at " + r, 41, g.at(r, 0, 0));
+                due("value at " + r, 99, g.at(r, 0, 1));
+                due("read of 40 and 41 at " + r, 41, g.at(r, 1, 2));
+            }
+        }
+    }
+
+    private static void whatClientsHave() {
+        for (int state : ALL_STATES) {
+            for (int down = 0; down <= NOBODY; down++) {
+                TapirGroup g = inState(state);
+                TapirGroup untouched = inState(state);
+                if (down != NOBODY) {
+                    g.power(down, false);
+                }
+                g.change();
+                for (int c = 0; c < 4; c++) {
+                    for (int what = 0; what < 8; what++) {
+                        due("client(" + c + ", " + what + ") in STATE " + state, untouched.client(c, what),
+                            g.client(c, what));
+                    }
+                }
+            }
+        }
+    }
+}
