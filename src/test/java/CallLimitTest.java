@@ -1,18 +1,18 @@
 import java.util.function.IntConsumer;
 
-/** "An object is used for at most 512 calls after it has been made": the 512th is as good as the first. */
+/** The limit of 512 calls on one object: the 512th is as good as the first. */
 final class CallLimitTest extends Edges {
     private static final int LIMIT = 512;
 
     public static void main(String[] args) {
-        sentence("at most 512 calls: changes of view", CallLimitTest::changes);
-        sentence("at most 512 calls: refused ones", CallLimitTest::refusedOnes);
-        sentence("at most 512 calls: queries", CallLimitTest::queries);
-        sentence("at most 512 calls: proposals", CallLimitTest::proposals);
-        sentence("at most 512 calls: reads and writes", CallLimitTest::readsAndWrites);
-        sentence("at most 512 calls: answers, confirmations, finishes", CallLimitTest::messages);
-        sentence("at most 512 calls: power", CallLimitTest::powers);
-        sentence("at most 512 calls: transactions", CallLimitTest::transactions);
+        sentence("An object is used for at most 512 calls", CallLimitTest::changes);
+        sentence("An object is used for at most 512 calls", CallLimitTest::refusedOnes);
+        sentence("An object is used for at most 512 calls", CallLimitTest::queries);
+        sentence("An object is used for at most 512 calls", CallLimitTest::proposals);
+        sentence("An object is used for at most 512 calls", CallLimitTest::readsAndWrites);
+        sentence("An object is used for at most 512 calls", CallLimitTest::messages);
+        sentence("An object is used for at most 512 calls", CallLimitTest::powers);
+        sentence("An object is used for at most 512 calls", CallLimitTest::transactions);
         sentence("what later calls answer is free", CallLimitTest::later);
         close();
     }

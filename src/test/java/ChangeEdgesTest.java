@@ -1,3 +1,5 @@
+import java.util.Arrays;
+
 /** Promise 12, change, and the change of view: each sentence that names a boundary case. */
 final class ChangeEdgesTest extends Edges {
     private static final int NOBODY = 3;
@@ -6,13 +8,20 @@ final class ChangeEdgesTest extends Edges {
         sentence("of all replicas that are up (two at least)", ChangeEdgesTest::twoAtLeast);
         sentence("fewer than two are up", ChangeEdgesTest::fewerThanTwo);
         sentence("All then have the next view (the group's and one)", ChangeEdgesTest::nextView);
+        sentence("(of all that are up, in whatever views", ChangeEdgesTest::inWhateverViews);
         sentence("a transaction of which some of them has a record", ChangeEdgesTest::noRecords);
+        sentence("(a record is made where there is none)", ChangeEdgesTest::recordsAreMade);
         sentence("applied, if it is at some", ChangeEdgesTest::appliedAtOne);
         sentence("dropped, if it is at some", ChangeEdgesTest::droppedAtOne);
+        sentence("To be applied or dropped changes neither the result nor FINAL of a record that there is.",
+            ChangeEdgesTest::resultsStay);
         sentence("FINAL with that result, if it is at some of those with the greatest view among them",
             ChangeEdgesTest::finalAtOne);
-        sentence("if two of them have the same result and that is not OK, that result, FINAL; else it waits",
-            ChangeEdgesTest::everyMixOfRecords);
+        sentence("if two of them have the same result and that is not OK, that result, FINAL",
+            ChangeEdgesTest::twoAlike);
+        sentence("Those that wait: OK, if each of them had a record with OK, else ABORT; FINAL at all of them.",
+            ChangeEdgesTest::thoseThatWait);
+        sentence("the first of these", ChangeEdgesTest::everyMixOfRecords);
         sentence("Versions, values and reads at all of them become the greatest at any",
             ChangeEdgesTest::greatestAtAny);
         sentence("Versions, values and reads at all of them become the greatest at any",
@@ -72,6 +81,28 @@ final class ChangeEdgesTest extends Edges {
         }
     }
 
+    private static void inWhateverViews() {
+        TapirGroup g = inState(TO_COMMIT);
+        g.power(2, false);
+        g.change();
+        g.finish(0, 1);
+        g.power(2, true);
+        g.power(0, false);
+        due("change of view 1 and view 0", 2, g.change());
+        due("record where the view was 0", OK | APPLIED, g.record(2, MINE));
+        due("version where the view was 0", 40, g.at(2, WRITTEN_KEY, 0));
+        TapirGroup back = inState(TO_COMMIT);
+        back.finish(0, 2);
+        back.power(2, false);
+        back.change();
+        due("record without the one that applied it", OK | FINAL, back.record(0, MINE));
+        back.power(2, true);
+        back.change();
+        due("an old view gives what is applied", OK | FINAL | APPLIED, back.record(0, MINE));
+        due("and its version", 40, back.at(0, WRITTEN_KEY, 0));
+        due("its own record", OK | APPLIED, back.record(2, MINE));
+    }
+
     private static void noRecords() {
         TapirGroup none = new TapirGroup();
         due("change of a new object", 1, none.change());
@@ -96,6 +127,43 @@ final class ChangeEdgesTest extends Edges {
                 due("record at " + other + ", prepared where it is down", other == r ? OK : -1,
                     g.record(other, MINE));
             }
+        }
+    }
+
+    private static void recordsAreMade() {
+        for (int r = 0; r < 3; r++) {
+            TapirGroup g = inState(RUNNING);
+            g.propose(0, 10);
+            g.prepare(0, r);
+            g.change();
+            for (int other = 0; other < 3; other++) {
+                due("record at " + other + ", prepared at " + r, ABORT | FINAL, g.record(other, MINE));
+            }
+        }
+    }
+
+    private static void resultsStay() {
+        int[] results = {OK, ABSTAIN, RETRY};
+        for (int result : results) {
+            TapirGroup applied = answered(OK, OK, result);
+            applied.decide(0);
+            if (result != OK) {
+                applied.confirm(0, 0);
+                applied.confirm(0, 1);
+            }
+            int before = applied.record(0, SUBJECT);
+            applied.finish(0, 1);
+            applied.change();
+            due("a record, not final, of an applied one", result | APPLIED, applied.record(2, SUBJECT));
+            due("a record of an applied one", before | APPLIED, applied.record(0, SUBJECT));
+            TapirGroup dropped = answered(result, ABORT, ABORT);
+            dropped.decide(0);
+            dropped.confirm(0, 1);
+            dropped.confirm(0, 2);
+            dropped.finish(0, 1);
+            dropped.change();
+            due("a record, not final, of a dropped one", result | DROPPED, dropped.record(0, SUBJECT));
+            due("a final record of a dropped one", ABORT | FINAL | DROPPED, dropped.record(2, SUBJECT));
         }
     }
 
@@ -171,21 +239,51 @@ final class ChangeEdgesTest extends Edges {
         due("the one that is down keeps it", ABORT | FINAL, old.record(1, MINE));
     }
 
-    /** All records that are not final, of all three replicas and of two of them, none of which is down. */
+    private static void merges(int want, int down, int... records) {
+        TapirGroup g = answered(records);
+        if (down != NOBODY) {
+            g.power(down, false);
+        }
+        g.change();
+        for (int r = 0; r < 3; r++) {
+            due("record at " + r + " of " + Arrays.toString(records) + " with " + down + " down",
+                r == down ? records[r] : want, g.record(r, SUBJECT));
+        }
+    }
+
+    private static void twoAlike() {
+        for (int result : new int[] {ABSTAIN, ABORT, RETRY}) {
+            merges(result | FINAL, NOBODY, result, result, OK);
+            merges(result | FINAL, NOBODY, result, NOT_ASKED, result);
+            merges(result | FINAL, NOBODY, OK, result, result);
+            merges(result | FINAL, NOBODY, result, result, result);
+            merges(result | FINAL, 2, result, result, OK);
+            merges(result | FINAL, 0, OK, result, result);
+            merges(ABORT | FINAL, 0, result, result, OK);
+        }
+        merges(ABORT | FINAL, NOBODY, OK, OK, RETRY);
+        merges(RETRY | FINAL, NOBODY, RETRY, ABORT, RETRY);
+    }
+
+    private static void thoseThatWait() {
+        merges(OK | FINAL, NOBODY, OK, OK, OK);
+        merges(ABORT | FINAL, NOBODY, OK, OK, NOT_ASKED);
+        merges(ABORT | FINAL, NOBODY, NOT_ASKED, OK, OK);
+        merges(ABORT | FINAL, NOBODY, OK, ABSTAIN, OK);
+        merges(ABORT | FINAL, NOBODY, OK, ABSTAIN, RETRY);
+        merges(ABORT | FINAL, NOBODY, RETRY, NOT_ASKED, NOT_ASKED);
+        merges(OK | FINAL, 2, OK, OK, RETRY);
+        merges(OK | FINAL, 0, NOT_ASKED, OK, OK);
+        merges(ABORT | FINAL, 1, OK, OK, NOT_ASKED);
+        merges(ABORT | FINAL, 1, RETRY, RETRY, OK);
+    }
+
+    /** Each mix of records that are not final, at all three replicas or with one of them down. */
     private static void everyMixOfRecords() {
         for (int mix = 0; mix < 125; mix++) {
             int[] records = {mix % 5 - 1, mix / 5 % 5 - 1, mix / 25 - 1};
             for (int down = 0; down <= NOBODY; down++) {
-                TapirGroup g = answered(records);
-                if (down != NOBODY) {
-                    g.power(down, false);
-                }
-                g.change();
-                int want = merged(records, down);
-                for (int r = 0; r < 3; r++) {
-                    due("record at " + r + " of " + java.util.Arrays.toString(records) + " with " + down + " down",
-                        r == down ? records[r] : want, g.record(r, SUBJECT));
-                }
+                merges(merged(records, down), down, records);
             }
         }
     }

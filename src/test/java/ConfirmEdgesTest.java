@@ -1,7 +1,7 @@
 /** Promise 8, confirm: each sentence that names a boundary case. */
 final class ConfirmEdgesTest extends Edges {
     public static void main(String[] args) {
-        sentence("REPLICAS 0, 1, 2; CLIENTS 0 to 3", ConfirmEdgesTest::firstAndLast);
+        sentence("REPLICAS 0, 1, 2", ConfirmEdgesTest::firstAndLast);
         sentence("its record (made, if need be) has that result, FINAL", ConfirmEdgesTest::made);
         sentence("unless it is final already (with the same result it confirms, too)", ConfirmEdgesTest::finalAlready);
         sentence("A replica whose record is final with another result does not count.",

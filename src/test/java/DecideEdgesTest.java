@@ -1,7 +1,13 @@
+import java.util.Arrays;
+
 /** Promise 7, decide, and the rule: each sentence that names a boundary case. */
 final class DecideEdgesTest extends Edges {
     public static void main(String[] args) {
         sentence("CLIENTS 0 to 3", DecideEdgesTest::firstAndLast);
+        sentence("some are ABORT: ABORT.", DecideEdgesTest::someAreAbort);
+        sentence("Two or more are OK: OK.", DecideEdgesTest::twoAreOk);
+        sentence("Two or more are ABSTAIN: ABORT.", DecideEdgesTest::twoAreAbstain);
+        sentence("Some are RETRY: RETRY. Else ABORT.", DecideEdgesTest::someAreRetry);
         sentence("no such client", DecideEdgesTest::noSuchClient);
         sentence("it is not proposed", DecideEdgesTest::notProposed);
         sentence("has fewer than two answers", DecideEdgesTest::fewerThanTwo);
@@ -18,6 +24,44 @@ final class DecideEdgesTest extends Edges {
             decideToCommit(g, c);
             due("STATE of client " + c, TO_COMMIT, g.client(c, 0));
         }
+    }
+
+    private static void decided(int want, int... answers) {
+        due("decide by " + Arrays.toString(answers), want, answered(answers).decide(0));
+    }
+
+    private static void someAreAbort() {
+        decided(ABORT, ABORT, OK, OK);
+        decided(ABORT, OK, ABORT, OK);
+        decided(ABORT, RETRY, RETRY, ABORT);
+        decided(ABORT, ABORT, NOT_ASKED, OK);
+        decided(ABORT, RETRY, ABORT, NOT_ASKED);
+        decided(ABORT, ABORT, ABORT, ABORT);
+    }
+
+    private static void twoAreOk() {
+        decided(OK, OK, OK, RETRY);
+        decided(OK, ABSTAIN, OK, OK);
+        decided(OK, OK, NOT_ASKED, OK);
+        decided(OK, OK, OK, OK);
+        decided(RETRY, OK, RETRY, NOT_ASKED);
+        decided(ABORT, OK, ABSTAIN, NOT_ASKED);
+    }
+
+    private static void twoAreAbstain() {
+        decided(ABORT, ABSTAIN, RETRY, ABSTAIN);
+        decided(ABORT, ABSTAIN, ABSTAIN, OK);
+        decided(ABORT, NOT_ASKED, ABSTAIN, ABSTAIN);
+        decided(RETRY, RETRY, ABSTAIN, RETRY);
+        decided(RETRY, OK, ABSTAIN, RETRY);
+    }
+
+    private static void someAreRetry() {
+        decided(RETRY, NOT_ASKED, OK, RETRY);
+        decided(RETRY, RETRY, ABSTAIN, NOT_ASKED);
+        decided(RETRY, RETRY, OK, RETRY);
+        decided(ABORT, OK, NOT_ASKED, ABSTAIN);
+        decided(ABORT, NOT_ASKED, ABSTAIN, OK);
     }
 
     private static void noSuchClient() {

@@ -1,3 +1,4 @@
+import java.util.Arrays;
 import java.util.function.Consumer;
 import java.util.function.IntSupplier;
 import java.util.function.Supplier;
@@ -109,8 +110,8 @@ abstract class Edges extends Scenes {
     }
 
     static int[] allStatesBut(int... some) {
-        return java.util.Arrays.stream(ALL_STATES)
-            .filter(state -> java.util.Arrays.stream(some).noneMatch(one -> one == state)).toArray();
+        return Arrays.stream(ALL_STATES)
+            .filter(state -> Arrays.stream(some).noneMatch(one -> one == state)).toArray();
     }
 
     /** Every client ends what it has and begins anew: the answers of 140 calls as one text. */

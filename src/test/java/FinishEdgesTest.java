@@ -1,12 +1,13 @@
 /** Promise 9, finish: each sentence that names a boundary case. */
 final class FinishEdgesTest extends Edges {
     public static void main(String[] args) {
-        sentence("REPLICAS 0, 1, 2; CLIENTS 0 to 3", FinishEdgesTest::firstAndLast);
+        sentence("REPLICAS 0, 1, 2", FinishEdgesTest::firstAndLast);
         sentence("writes become versions with its timestamp, where that is greater", FinishEdgesTest::greaterVersion);
         sentence("of each key read its timestamp is noted, where that is greater", FinishEdgesTest::greaterRead);
-        sentence("with a time of 1 to 1,000,000", FinishEdgesTest::firstAndLastTime);
+        sentence("its timestamp is noted", FinishEdgesTest::firstAndLastTime);
         sentence("false when it was either already (applied or dropped)", FinishEdgesTest::already);
-        sentence("(A record that is made by it for that has OK, or ABORT, and is not FINAL.)", FinishEdgesTest::made);
+        sentence("(A record that is made by it, or by a change of view, for that has OK, or ABORT, and is not FINAL.)",
+            FinishEdgesTest::made);
         sentence("no such client or replica", FinishEdgesTest::noSuchArgument);
         sentence("it is not decided", FinishEdgesTest::notDecided);
         sentence("the replica does not serve", FinishEdgesTest::doesNotServe);

@@ -1,7 +1,7 @@
 /** Promise 6, prepare, and the check: each sentence that names a boundary case. */
 final class PrepareEdgesTest extends Edges {
     public static void main(String[] args) {
-        sentence("REPLICAS 0, 1, 2; CLIENTS 0 to 3", PrepareEdgesTest::firstAndLast);
+        sentence("REPLICAS 0, 1, 2", PrepareEdgesTest::firstAndLast);
         sentence("made by a check (without its own record) if it has none", PrepareEdgesTest::itsOwnKeys);
         sentence("an answer from now on (one of each replica, the latest)", PrepareEdgesTest::oneOfEachReplica);
         sentence("no such client or replica", PrepareEdgesTest::noSuchArgument);
@@ -17,7 +17,7 @@ final class PrepareEdgesTest extends Edges {
             PrepareEdgesTest::aPreparedRead);
         sentence("or was read by an applied one with a greater timestamp", PrepareEdgesTest::anAppliedRead);
         sentence("or has a greater version there", PrepareEdgesTest::aGreaterVersion);
-        sentence("some key: the fourth of four", PrepareEdgesTest::theFourthOfFour);
+        sentence("at most 4 keys are read and 4 written", PrepareEdgesTest::theFourthOfFour);
         close();
     }
 

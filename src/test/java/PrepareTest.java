@@ -195,7 +195,7 @@ final class PrepareTest extends Scenes {
         proposeRead(dropped, 2, 1, 0, 90);
         due("a write that is dropped", OK, dropped.prepare(2, 0));
 
-        TapirGroup both = fastAbortWithAnOk();
+        TapirGroup both = abortWithAnOk();
         proposeRead(both, 2, 1, 0, 90);
         due("a write with OK, before it is dropped", ABSTAIN, both.prepare(2, 0));
         due("finish", true, both.finish(0, 0));
@@ -209,8 +209,8 @@ final class PrepareTest extends Scenes {
         due("a write with ABSTAIN", OK, retries.prepare(2, 1));
     }
 
-    /** Transaction 1 is decided to abort, and replica 0 holds an OK of it. */
-    private static TapirGroup fastAbortWithAnOk() {
+    /** SUBJECT is decided to abort, and replica 0 holds an OK of it. */
+    private static TapirGroup abortWithAnOk() {
         TapirGroup g = answered(OK, ABSTAIN, ABSTAIN);
         g.decide(0);
         g.confirm(0, 1);

@@ -6,7 +6,7 @@ final class ProposeEdgesTest extends Edges {
         sentence("since propose() a TIMESTAMP", ProposeEdgesTest::noneBefore);
         sentence("A running transaction, or a proposed one", ProposeEdgesTest::nothingReadOrWritten);
         sentence("All answers that it had are forgotten", ProposeEdgesTest::noAnswers);
-        sentence("and records of it at all replicas (of whatever kind)", ProposeEdgesTest::recordsOfEveryKind);
+        sentence("and records of it at all replicas (of whatever kind", ProposeEdgesTest::recordsOfEveryKind);
         sentence("also those that are down", ProposeEdgesTest::recordsOfThoseThatAreDown);
         sentence("reads and writes stay", ProposeEdgesTest::readsAndWritesStay);
         sentence("no such client or time", ProposeEdgesTest::noSuchArgument);

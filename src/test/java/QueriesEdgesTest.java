@@ -10,14 +10,14 @@ final class QueriesEdgesTest extends Edges {
         sentence("3 reads, 4 writes", QueriesEdgesTest::noneToFour);
         sentence("5 answers, 6 confirmations (both 0 behind propose())", QueriesEdgesTest::answersAndConfirmations);
         sentence("7 the result when slow (STATE 3; -1 else)", QueriesEdgesTest::resultWhenSlow);
-        sentence("at: -1 when there is none such", QueriesEdgesTest::noneSuchAt);
+        sentence("-1 when there is none such", QueriesEdgesTest::noneSuchAt);
         sentence("0 version, 1 value, 2 the greatest timestamp that read it", QueriesEdgesTest::firstAndLastAt);
-        sentence("record: -1 without", QueriesEdgesTest::withoutARecord);
+        sentence("-1 without", QueriesEdgesTest::withoutARecord);
         sentence("its result, and 4 when it is final, 8 when it was applied, 16 when it was dropped",
             QueriesEdgesTest::everyRecord);
-        sentence("state: -1 for others", QueriesEdgesTest::otherStates);
+        sentence("-1 for others", QueriesEdgesTest::otherStates);
         sentence("2 to 4 the replicas' views, 5 to 7 whether they are up", QueriesEdgesTest::eachReplica);
-        sentence("Of a client, of a replica and a key, of a record: no query changes anything",
+        sentence("Nothing is promised beyond the answers and state changes described above",
             QueriesEdgesTest::changeNothing);
         close();
     }

@@ -1,7 +1,7 @@
 /** Promise 3, read: each sentence that names a boundary case. */
 final class ReadEdgesTest extends Edges {
     public static void main(String[] args) {
-        sentence("REPLICAS 0, 1, 2; KEYS 0 to 5; CLIENTS 0 to 3", ReadEdgesTest::firstAndLast);
+        sentence("KEYS 0 to 5", ReadEdgesTest::firstAndLast);
         sentence("(0 at first, with value 0)", ReadEdgesTest::aKeyThatNobodyWrote);
         sentence("what it wrote itself", ReadEdgesTest::whatItWroteItself);
         sentence("a key that was read before is not read again", ReadEdgesTest::whatWasSeen);

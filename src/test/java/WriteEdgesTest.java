@@ -4,8 +4,8 @@ final class WriteEdgesTest extends Edges {
         Integer.MAX_VALUE - 1, Integer.MAX_VALUE};
 
     public static void main(String[] args) {
-        sentence("KEYS 0 to 5; CLIENTS 0 to 3", WriteEdgesTest::firstAndLast);
-        sentence("WRITES (a key, a value): any int", WriteEdgesTest::anyValue);
+        sentence("KEYS 0 to 5", WriteEdgesTest::firstAndLast);
+        sentence("WRITES (a key, a value)", WriteEdgesTest::anyValue);
         sentence("Writes a key (again, too).", WriteEdgesTest::again);
         sentence("no such client or key", WriteEdgesTest::noSuchArgument);
         sentence("its transaction is not running", WriteEdgesTest::notRunning);
