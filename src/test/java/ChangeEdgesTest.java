@@ -13,10 +13,12 @@ final class ChangeEdgesTest extends Edges {
         sentence("(a record is made where there is none)", ChangeEdgesTest::recordsAreMade);
         sentence("applied, if it is at some", ChangeEdgesTest::appliedAtOne);
         sentence("dropped, if it is at some", ChangeEdgesTest::droppedAtOne);
+        sentence("applied, if it is at some; dropped, if it is at some", ChangeEdgesTest::oneIsDown);
         sentence("To be applied or dropped changes neither the result nor FINAL of a record that there is.",
             ChangeEdgesTest::resultsStay);
         sentence("FINAL with that result, if it is at some of those with the greatest view among them",
             ChangeEdgesTest::finalAtOne);
+        sentence("those with the greatest view among them", ChangeEdgesTest::finalInAnOldView);
         sentence("if two of them have the same result and that is not OK, that result, FINAL",
             ChangeEdgesTest::twoAlike);
         sentence("Those that wait: OK, if each of them had a record with OK, else ABORT; FINAL at all of them.",
@@ -225,18 +227,81 @@ final class ChangeEdgesTest extends Edges {
                 due("record at " + other + " beside two alike", ABORT | FINAL, alike.record(other, SUBJECT));
             }
         }
-        TapirGroup old = inState(SLOW);
-        old.confirm(0, 0);
-        old.power(0, false);
-        old.change();
-        due("a final one that is down gives nothing", ABORT | FINAL, old.record(1, MINE));
-        old.power(0, true);
-        due("its record when it is up again", OK | FINAL, old.record(0, MINE));
-        old.power(1, false);
-        old.change();
-        due("the final one of the greatest view", ABORT | FINAL, old.record(0, MINE));
-        due("also where it was", ABORT | FINAL, old.record(2, MINE));
-        due("the one that is down keeps it", ABORT | FINAL, old.record(1, MINE));
+    }
+
+    private static void finalInAnOldView() {
+        for (int r = 0; r < 3; r++) {
+            int other = (r + 1) % 3;
+            int third = (r + 2) % 3;
+            TapirGroup g = oldFinal(r);
+            due("record of the old view", OK | FINAL, g.record(r, MINE));
+            due("record of the new view", ABORT | FINAL, g.record(other, MINE));
+            g.power(third, false);
+            g.change();
+            due("where the view was old", ABORT | FINAL, g.record(r, MINE));
+            due("where the view was new", ABORT | FINAL, g.record(other, MINE));
+            due("the one that is down keeps it", ABORT | FINAL, g.record(third, MINE));
+            TapirGroup all = oldFinal(r);
+            all.change();
+            TapirGroup abort = oldFinalAbort(r);
+            due("an ABORT of the old view", ABORT | FINAL, abort.record(r, SUBJECT));
+            due("an OK of the new view", OK | FINAL, abort.record(other, SUBJECT));
+            abort.change();
+            TapirGroup two = oldFinalAbort(r);
+            two.power(other, false);
+            two.change();
+            for (int each = 0; each < 3; each++) {
+                due("record at " + each + " behind a change of all", ABORT | FINAL, all.record(each, MINE));
+                due("record at " + each + " of an old ABORT", OK | FINAL, abort.record(each, SUBJECT));
+                due("record at " + each + " of an old ABORT and one OK", OK | FINAL, two.record(each, SUBJECT));
+            }
+        }
+    }
+
+    /** Replica r, in view 0, has a final OK; the other two, in view 1, have a final ABORT. */
+    private static TapirGroup oldFinal(int r) {
+        TapirGroup g = inState(RUNNING);
+        g.propose(0, 10);
+        g.prepare(0, r);
+        g.prepare(0, (r + 1) % 3);
+        g.decide(0);
+        g.confirm(0, r);
+        g.power(r, false);
+        g.change();
+        g.power(r, true);
+        return g;
+    }
+
+    /** Replica r, in view 0, has a final ABORT; the other two, in view 1, have a final OK. */
+    private static TapirGroup oldFinalAbort(int r) {
+        TapirGroup g = answered(r == 0 ? ABORT : OK, r == 1 ? ABORT : OK, r == 2 ? ABORT : OK);
+        g.decide(0);
+        g.confirm(0, r);
+        g.power(r, false);
+        g.change();
+        g.power(r, true);
+        return g;
+    }
+
+    private static void oneIsDown() {
+        for (int state : new int[] {TO_COMMIT, TO_ABORT}) {
+            for (int r = 0; r < 3; r++) {
+                for (int down = 0; down < 3; down++) {
+                    TapirGroup g = inState(state);
+                    int before = g.record(down, MINE);
+                    int finished = before | (state == TO_COMMIT ? APPLIED : DROPPED);
+                    g.finish(0, r);
+                    g.power(down, false);
+                    g.change();
+                    for (int other = 0; other < 3; other++) {
+                        int want = r == other || other != down && r != down ? finished
+                            : other == down ? before : before | FINAL;
+                        due("record at " + other + ", finished at " + r + ", down is " + down, want,
+                            g.record(other, MINE));
+                    }
+                }
+            }
+        }
     }
 
     private static void merges(int want, int down, int... records) {

@@ -3,6 +3,7 @@ final class PrepareEdgesTest extends Edges {
     public static void main(String[] args) {
         sentence("REPLICAS 0, 1, 2", PrepareEdgesTest::firstAndLast);
         sentence("made by a check (without its own record) if it has none", PrepareEdgesTest::itsOwnKeys);
+        sentence("if it has none", PrepareEdgesTest::noSecondCheck);
         sentence("an answer from now on (one of each replica, the latest)", PrepareEdgesTest::oneOfEachReplica);
         sentence("no such client or replica", PrepareEdgesTest::noSuchArgument);
         sentence("it is not proposed", PrepareEdgesTest::notProposed);
@@ -17,6 +18,7 @@ final class PrepareEdgesTest extends Edges {
             PrepareEdgesTest::aPreparedRead);
         sentence("or was read by an applied one with a greater timestamp", PrepareEdgesTest::anAppliedRead);
         sentence("or has a greater version there", PrepareEdgesTest::aGreaterVersion);
+        sentence("TO CHECK a transaction at a replica, the first of these", PrepareEdgesTest::orderOfTheCheck);
         sentence("at most 4 keys are read and 4 written", PrepareEdgesTest::theFourthOfFour);
         close();
     }
@@ -47,6 +49,16 @@ final class PrepareEdgesTest extends Edges {
         due("prepare elsewhere", OK, g.prepare(0, 1));
         g.propose(0, 2);
         due("prepare behind propose", OK, g.prepare(0, 0));
+    }
+
+    private static void noSecondCheck() {
+        TapirGroup g = inState(PROPOSED);
+        commitWrite(g, 1, 1, 9, 20, 0);
+        due("where there is a record", OK, g.prepare(0, 0));
+        due("record", OK, g.record(0, MINE));
+        due("where there is none, and a write is prepared", ABSTAIN, g.prepare(0, 2));
+        g.propose(0, 30);
+        due("where there is none any more", ABORT, g.prepare(0, 0));
     }
 
     private static void oneOfEachReplica() {
@@ -198,6 +210,37 @@ final class PrepareEdgesTest extends Edges {
             proposeWrite(g, 3, 2, 5, 1);
             due("a key that nobody wrote", OK, g.prepare(3, 0));
         }
+    }
+
+    /** Client 0 reads key 0 and writes key 1 (time 10); what stands against it at replica 0 is said. */
+    private static int checked(boolean staleRead, boolean preparedWrite, boolean laterVersion) {
+        TapirGroup g = new TapirGroup();
+        g.begin(0);
+        g.read(0, 0, 0);
+        g.write(0, 1, 1);
+        g.propose(0, 10);
+        if (staleRead) {
+            commitWrite(g, 1, 0, 5, 9, 0);
+        }
+        if (laterVersion) {
+            commitWrite(g, 2, 1, 5, 11, 0);
+        }
+        if (preparedWrite) {
+            proposeWrite(g, 3, 0, 5, 12);
+            g.prepare(3, 0);
+        }
+        return g.prepare(0, 0);
+    }
+
+    private static void orderOfTheCheck() {
+        due("all three", ABORT, checked(true, true, true));
+        due("ABORT and ABSTAIN", ABORT, checked(true, true, false));
+        due("ABORT and RETRY", ABORT, checked(true, false, true));
+        due("ABORT alone", ABORT, checked(true, false, false));
+        due("ABSTAIN and RETRY", ABSTAIN, checked(false, true, true));
+        due("ABSTAIN alone", ABSTAIN, checked(false, true, false));
+        due("RETRY alone", RETRY, checked(false, false, true));
+        due("none", OK, checked(false, false, false));
     }
 
     /** Client 0 reads (or else writes) four keys, this one last, and is proposed with time 10. */

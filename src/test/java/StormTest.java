@@ -13,7 +13,9 @@ final class StormTest extends Due {
     private static final String[] NAMES = {"begin", "read", "write", "propose", "prepare", "decide", "confirm",
         "finish", "end", "power", "change", "client", "at", "record", "state"};
     /** How often each is called: a run is to come as far as changes of view and ended transactions. */
-    private static final int[] WEIGHTS = {10, 8, 8, 4, 36, 12, 24, 16, 4, 2, 1, 1, 1, 1, 1};
+    private static final int[] CALM = {10, 8, 8, 4, 36, 12, 24, 16, 4, 2, 1, 1, 1, 1, 1};
+    /** With few answers to a transaction and many changes of view, replicas know different things. */
+    private static final int[] ROUGH = {14, 10, 8, 8, 20, 14, 18, 8, 6, 8, 3, 1, 1, 1, 1};
     private static final int[] ODD = {-1, 0, 3, 4, 5, 6, 7, 8, 60, 61, 1000000, 1000001, Integer.MIN_VALUE,
         Integer.MAX_VALUE};
 
@@ -42,8 +44,9 @@ final class StormTest extends Due {
         // With few keys transactions meet more often, with all of them they get full.
         int keys = 1 + next(6);
         int calls = 20 + next(MOST_CALLS - 19);
+        int[] weights = run % 2 == 0 ? CALM : ROUGH;
         for (int i = 0; i < calls; i++) {
-            int kind = nextKind();
+            int kind = nextKind(weights);
             same("run " + run + ", call " + i, group, model, kind, arguments(kind, keys, i));
         }
         for (int what = 0; what < 8; what++) {
@@ -119,14 +122,14 @@ final class StormTest extends Due {
         return ODD[next(ODD.length)];
     }
 
-    private static int nextKind() {
+    private static int nextKind(int[] weights) {
         int sum = 0;
-        for (int weight : WEIGHTS) {
+        for (int weight : weights) {
             sum += weight;
         }
         int left = next(sum);
-        for (int kind = 0; kind < WEIGHTS.length; kind++) {
-            left -= WEIGHTS[kind];
+        for (int kind = 0; kind < weights.length; kind++) {
+            left -= weights[kind];
             if (left < 0) {
                 return kind;
             }
